@@ -1877,7 +1877,7 @@ public final class SportsHouse {
             x = (x ^ x >>> 16) * 73244475;
             x = (x ^ x >>> 16) * 73244475;
             x = x ^ x >>> 16;
-            return x & Integer.MAX_VALUE;
+            return x & 0x7fffffff;
         }
 
         /** Sorts by worth, the greater first; equals stay as they stood, which is as they entered. */

@@ -17,6 +17,7 @@ public final class DrawTest {
         new DrawTest().balls();
         new DrawTest().ballsByNumbers();
         new DrawTest().seedsGoOn();
+        new DrawTest().numbersThatAreTakenAgain();
         CHECK.end();
     }
 
@@ -197,6 +198,45 @@ public final class DrawTest {
         int club = takenBelow(4);
         int group = takenBelow(24) / 6;
         CHECK.due("by numbers", x.ball(4, true), 8 * club + group);
+    }
+
+    /** The seed whose next number is the one told. */
+    private static int seedBefore(int next) {
+        int inverse = 1;
+        for (int k = 0; k < 5; k++) {
+            inverse *= 2 - 1664525 * inverse;
+        }
+        return (next - 1013904223) * inverse;
+    }
+
+    private void numbersThatAreTakenAgain() {
+        // 2^31 by 3 leaves 2: of the values the last two are not used.
+        for (int next = -8; next < 0; next++) {
+            SportsHouse x = clubs(3);
+            x.drawing(3, 3);
+            for (int club = 0; club < 3; club++) {
+                x.pot(club, 0);
+            }
+            int start = seedBefore(next);
+            seed = start;
+            int club = takenBelow(3);
+            int first = next;
+            CHECK.due("again below " + next, seed == first ? 1 : 0, next < -4 ? 1 : 0);
+            int group = takenBelow(6) / 2;
+            CHECK.due("ball behind " + next, x.ball(start, true), 8 * club + group);
+        }
+        // The same for the second number, that tells the group: 2^31 by 6 leaves 2.
+        for (int next = -8; next < 0; next++) {
+            SportsHouse x = clubs(3);
+            x.drawing(3, 3);
+            x.pot(0, 1);
+            x.pot(1, 1);
+            int start = seedBefore(seedBefore(next));
+            seed = start;
+            int club = takenBelow(2);
+            int group = takenBelow(6) / 2;
+            CHECK.due("second number " + next, x.ball(start, true), 8 * club + group);
+        }
     }
 
     private void seedsGoOn() {

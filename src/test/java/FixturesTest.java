@@ -145,24 +145,37 @@ public final class FixturesTest {
         CHECK.due("its second leg", x.match(7, 2), 1);
     }
 
-    private static void roomForMatches() {
+    /** Competitions of so many legs each; the first two of twelve clubs, the others of two. */
+    private static SportsHouse fourCompetitions(int... legs) {
         SportsHouse x = new SportsHouse();
-        Setup.rules(x, "legs4;");
-        Setup.rules(x, "legs2;");
-        Setup.rules(x, "legs4;");
-        x.competition();
         Setup.clubs(x, 12);
-        Setup.enterAll(x, 0, 12);
-        Setup.enterAll(x, 1, 12);
-        Setup.enterAll(x, 2, 2);
-        Setup.enterAll(x, 3, 2);
+        for (int c = 0; c < 4; c++) {
+            Setup.rules(x, "legs" + legs[c] + ";");
+            Setup.enterAll(x, c, c < 2 ? 12 : 2);
+        }
+        return x;
+    }
+
+    private static void roomForMatches() {
+        SportsHouse x = fourCompetitions(4, 2, 4, 1);
         CHECK.due("264 matches", x.plan(0, 0), 0);
         CHECK.due("396 matches", x.plan(1, 0), 264);
-        CHECK.due("397 matches", x.plan(3, 0), 396);
-        CHECK.due("401 matches", x.plan(2, 0), ROOM);
-        CHECK.due("STATE comes before ROOM", x.plan(2, 999), STATE);
-        CHECK.due("count(5)", x.count(5), 397);
-        CHECK.due("it is not planned", x.enter(2, 2), 3);
+        CHECK.due("400 matches", x.plan(2, 0), 396);
+        CHECK.due("401 matches", x.plan(3, 0), ROOM);
+        CHECK.due("count(5)", x.count(5), 400);
+        CHECK.due("the last one", x.match(399, 0), 2);
+        CHECK.due("match(400, 0)", x.match(400, 0), UNKNOWN);
+        SportsHouse y = fourCompetitions(4, 2, 4, 1);
+        y.plan(0, 0);
+        y.plan(1, 0);
+        CHECK.due("397 matches", y.plan(3, 0), 396);
+        CHECK.due("401 matches", y.plan(2, 0), ROOM);
+        CHECK.due("STATE comes before ROOM", y.plan(2, 999), STATE);
+        CHECK.due("count(5)", y.count(5), 397);
+        CHECK.due("it is not planned", y.enter(2, 2), 3);
+        SportsHouse z = fourCompetitions(4, 3, 1, 1);
+        z.plan(0, 0);
+        CHECK.due("all legs count", z.plan(1, 0), ROOM);
     }
 
     private static void days(String name, SportsHouse x, int... want) {

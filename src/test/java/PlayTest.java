@@ -13,6 +13,7 @@ public final class PlayTest {
         substitutions();
         volleyball();
         volleyballToTheEnd();
+        fifthSets();
         tennis();
         tennisTieBreak();
         retiring();
@@ -129,7 +130,9 @@ public final class PlayTest {
         x.event(0, 5, 0, 1, 4);
         field("where the other stood", x, 0, 0, 4, 2);
         state("counted", x, 0, 0, 0, 0, 0, 0, 1, 0);
+        CHECK.due("who has come on is on no bench", x.event(0, 5, 0, 0, 4), -15);
         CHECK.due("the new one can go, too", x.event(0, 5, 0, 4, 3), 2);
+        CHECK.due("and does not come back", x.event(0, 5, 0, 0, 4), -15);
         field("again", x, 0, 0, 3, 2);
         CHECK.due("who went off is on no bench", x.event(0, 5, 0, 0, 1), -15);
         x.event(0, 5, 1, 5, 8);
@@ -207,6 +210,21 @@ public final class PlayTest {
         field("its last point rotates, too", z, 1, 5, 3, 4);
     }
 
+    private static void fifthSets() {
+        int[] targets = {2, 3, 5, 6, 10, 25};
+        int[] fifths = {2, 2, 3, 4, 6, 15};
+        for (int k = 0; k < targets.length; k++) {
+            SportsHouse x = Setup.begun("sport volleyball;field1;target" + targets[k] + ";", 1);
+            for (int set = 0; set < 4; set++) {
+                Setup.events(x, targets[k], 1, set / 2, 0);
+            }
+            Setup.events(x, fifths[k] - 1, 1, 1, 0);
+            score("target " + targets[k] + ", one too few", x, 1, 2, 2);
+            Setup.events(x, 1, 1, 1, 0);
+            score("target " + targets[k], x, 2, 2, 3);
+        }
+    }
+
     private static void tennis() {
         SportsHouse x = Setup.begun("sport tennis;field1;target2;", 1);
         state("at first", x, 0, 0, 0, 0, 0, 0);
@@ -253,6 +271,23 @@ public final class PlayTest {
         Setup.events(x, 1, 1, 0, 0);
         state("8 to 6 is game and set", x, 1, 0, 0, 0, 0, 1);
         score("3 to 2", x, 1, 1, 0);
+        SportsHouse y = Setup.begun("sport tennis;field1;target2;", 1);
+        for (int game = 0; game < 4; game++) {
+            Setup.events(y, 4, 1, game % 2, 0);
+        }
+        Setup.events(y, 7, 1, 1, 0);
+        score("7 to 0 is enough", y, 1, 0, 1);
+        Setup.events(y, 4, 1, 0, 0);
+        Setup.events(y, 8, 1, 1, 0);
+        state("1 to 2", y, 1, 0, 0, 1, 2, 0);
+        Setup.events(y, 4, 1, 0, 0);
+        state("four points are enough again", y, 1, 0, 0, 2, 2, 1);
+        SportsHouse z = Setup.begun("sport tennis;field1;target2;", 1);
+        Setup.events(z, 4, 1, 1, 0);
+        Setup.events(z, 8, 1, 0, 0);
+        state("2 to 1", z, 0, 0, 0, 2, 1, 1);
+        Setup.events(z, 4, 1, 1, 0);
+        state("2 to 2", z, 0, 0, 0, 2, 2, 0);
     }
 
     private static void retiring() {

@@ -44,6 +44,12 @@ public final class RandomRunsTest {
         for (int seed = 0; seed < 120 * more; seed++) {
             new RandomRunsTest(check, "title", seed).title();
         }
+        for (int seed = 0; seed < 80 * more; seed++) {
+            new RandomRunsTest(check, "tight", seed).tightTitle();
+        }
+        for (int seed = 0; seed < 120 * more; seed++) {
+            new RandomRunsTest(check, "bans", seed).bans();
+        }
         for (int seed = 0; seed < 60 * more; seed++) {
             new RandomRunsTest(check, "draw", seed).draws();
         }
@@ -379,6 +385,92 @@ public final class RandomRunsTest {
             twin.call("firsts", c, below(clubs));
             twin.call("parted", c, 999, below(clubs));
             twin.call("table", c, 999, below(clubs), 7);
+        }
+    }
+
+    /** One club loses points step by step, until it can't be first any more. */
+    private void tightTitle() {
+        String[] points = {"points 2 1 0;", "points 4 2 0;", "points 3 2 1;", "points 6 3 0;", ""};
+        int kind = below(points.length);
+        int c = twin.rules(points[kind] + "every1;" + (chance(50) ? "legs2;" : ""));
+        makeClubs(kind == 4 ? from(3, 5) : from(4, 7), 4, 3);
+        enterAll(c);
+        twin.call("plan", c, 0);
+        matches = twin.house.count(5);
+        for (int days = from(0, 3); days > 0; days--) {
+            walkDay(below(clubs));
+            twin.call("day", today + 1);
+            today = twin.house.count(7);
+        }
+        int club = below(clubs);
+        for (int k = below(4); k > 0; k--) {
+            twin.call("deduct", c, below(clubs), from(1, 4));
+        }
+        for (int n = 0; n < 46 && twin.left() > matches + 4; n++) {
+            int can = twin.call("can", c, club);
+            twin.call("cut");
+            for (int m = 0; can == 1 && m < matches; m++) {
+                if (twin.house.match(m, 5) == 0) {
+                    twin.call("witness", m);
+                }
+            }
+            twin.call("deduct", c, club, can == 1 ? from(1, 3) : 1);
+        }
+    }
+
+    // ---- bans in matches that are played by other days than they are numbered
+
+    private void bans() {
+        sport = 0;
+        field = 2;
+        int c = twin.rules("field2;legs4;every1;cards" + from(1, 3) + ";red" + from(1, 3) + ";");
+        makeClubs(2, 2, 2);
+        for (int p = 0; p < 8; p++) {
+            twin.call("person");
+            int until = below(8);
+            twin.call("register", p, p % 2, 0, chance(70) ? 999 : until);
+            twin.call("register", p, below(2), until + 1, 999);
+            persons++;
+        }
+        enterAll(c);
+        twin.call("plan", c, 0);
+        matches = twin.house.count(5);
+        for (int k = 0; k < 6; k++) {
+            twin.call("postpone", below(matches), from(1, 9));
+        }
+        while (twin.left() > 60 && today < 30) {
+            for (int m = 0; m < matches; m++) {
+                if (twin.house.match(m, 4) == today && twin.left() > 60) {
+                    playForCards(m);
+                }
+            }
+            for (int k = 0; k < 4; k++) {
+                twin.call("eligible", below(persons), below(matches), below(2));
+            }
+            twin.call("day", today + 1);
+            today = twin.house.count(7);
+        }
+        for (int p = 0; p < persons && twin.left() > 2; p++) {
+            twin.call("eligible", p, below(matches), 0);
+            twin.call("eligible", p, below(matches), 1);
+        }
+    }
+
+    private void playForCards(int m) {
+        if (chance(15)) {
+            twin.call("walkOver", m, below(2));
+            return;
+        }
+        for (int p = 0; p < persons; p++) {
+            twin.call("lineUp", p, m, twin.house.eligible(p, m, 0) == 0 ? 0 : 1);
+        }
+        twin.call("start", m);
+        for (int k = below(4); k > 0; k--) {
+            int side = below(2);
+            twin.call("event", m, from(3, 5), side, twin.house.onField(m, side, below(2)), below(persons));
+        }
+        for (int k = 0; k < 3; k++) {
+            twin.call("event", m, 0, 0, 0, 0);
         }
     }
 

@@ -11,6 +11,7 @@ public final class SheetsTest {
         registering();
         sheets();
         otherMatches();
+        firstMatchOfTheDay();
         starting();
         walkingOver();
         bansByYellows();
@@ -89,6 +90,11 @@ public final class SheetsTest {
         CHECK.due("one day, another match", x.lineUp(0, 2, 0), 1);
         CHECK.due("it is on a sheet that day", x.lineUp(0, 3, 0), -14);
         CHECK.due("on another day", x.lineUp(0, 1, 1), 1);
+        x.lineUp(4, 0, 1);
+        x.postpone(1, 9);
+        x.postpone(0, 9);
+        CHECK.due("match 0 goes where match 1 was put", x.match(1, 4), 10);
+        x.postpone(1, 1);
         x.day(2);
         x.walkOver(2, 1);
         CHECK.due("a match walked over does not count", x.lineUp(0, 3, 0), 1);
@@ -302,6 +308,43 @@ public final class SheetsTest {
         CHECK.due("match 2 comes behind it", mayPlay(x, 0, 2), 2);
         playWith(x, 0, 1, 0, 0);
         CHECK.due("served in match 0", mayPlay(x, 0, 2), 0);
+        SportsHouse y = series("");
+        y.postpone(0, 9);
+        y.postpone(1, 5);
+        y.postpone(3, 11);
+        y.postpone(2, 10);
+        playWith(y, 1, 1, 0, 0);
+        playWith(y, 0, 1, 0, 1);
+        CHECK.due("match 1 came before, and served nothing", mayPlay(y, 1, 2), 2);
+        playWith(y, 2, 0, 0, 1);
+        CHECK.due("served in match 2", mayPlay(y, 1, 3), 0);
+        CHECK.due("to be served", mayPlay(y, 0, 3), 2);
+        SportsHouse z = series("red2;");
+        z.postpone(0, 20);
+        z.postpone(1, 19);
+        z.postpone(2, 18);
+        z.postpone(3, 21);
+        playWith(z, 2, 0, 0, 1);
+        CHECK.due("two to serve", mayPlay(z, 0, 1), 2);
+        playWith(z, 1, 1, 0, 0);
+        CHECK.due("one to serve", mayPlay(z, 0, 0), 2);
+        playWith(z, 0, 4, 0, 1);
+        CHECK.due("none to serve", mayPlay(z, 0, 3), 0);
+        CHECK.due("the last one's is to serve", mayPlay(z, 4, 3), 2);
+    }
+
+    private static void firstMatchOfTheDay() {
+        SportsHouse x = new SportsHouse();
+        Setup.rules(x, "field1;");
+        Setup.rules(x, "field1;");
+        Setup.clubs(x, 2);
+        x.register(x.person(), 0, 0, 999);
+        for (int c = 0; c < 2; c++) {
+            Setup.enterAll(x, c, 2);
+            x.plan(c, 0);
+        }
+        x.lineUp(0, 0, 0);
+        CHECK.due("on the sheet of match 0", x.eligible(0, 1, 0), 4);
     }
 
     private static void bansOfOtherCompetitions() {

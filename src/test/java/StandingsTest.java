@@ -11,6 +11,8 @@ public final class StandingsTest {
         tables();
         keys();
         headAmongThoseStillEqual();
+        partsOfHead();
+        lastStepOfLots();
         pointsAheadOfHead();
         fairness();
         lots();
@@ -164,6 +166,28 @@ public final class StandingsTest {
             new int[] {2, 1});
     }
 
+    /** Three clubs that each beat one: 1 beats 2, 2 beats 0, 0 beats 1 by these scores. */
+    private static SportsHouse ringOfThree(String text, int... scores) {
+        SportsHouse x = Setup.league(text + "every1;field1;", 3, 1);
+        for (int m = 0; m < 3; m++) {
+            play(x, m, scores[2 * m], scores[2 * m + 1]);
+        }
+        return x;
+    }
+
+    private static void partsOfHead() {
+        standings("of equals scored", ringOfThree("order head;", 2, 1, 1, 0, 1, 0), new int[] {1, 2, 0},
+            new int[] {1, 1, 3}, new int[] {NONE, 1});
+        standings("diff ahead of scored", ringOfThree("order head;", 1, 0, 5, 4, 2, 0), new int[] {0, 2, 1},
+            new int[] {1, 2, 3}, new int[] {1, 1});
+        SportsHouse x = Setup.league("order head;legs3;every1;field1;", 2, 1);
+        play(x, 0, 1, 0);
+        play(x, 1, 5, 0);
+        play(x, 2, 1, 0);
+        x.deduct(0, 0, 3);
+        standings("points ahead of diff", x, new int[] {0, 1}, new int[] {1, 2}, new int[] {1});
+    }
+
     /** The first two by lots among them, then the third. */
     private static int[] lotOrder(int seed, int a, int b, int last) {
         int group = 1 << a | 1 << b;
@@ -251,6 +275,18 @@ public final class StandingsTest {
             }
             standings("lots of seed " + seed, x, clubs, new int[] {1, 2, 3, 4}, new int[] {1, 1, 1});
         }
+    }
+
+    private static void lastStepOfLots() {
+        // Of this seed and these clubs the highest bits are alike, so the last step alone parts them.
+        SportsHouse x = new SportsHouse();
+        Setup.rules(x, "order lots;seed 540;");
+        Setup.clubs(x, 7);
+        x.enter(0, 4);
+        x.enter(0, 6);
+        int[] want = lotOrder(540, 4, 6, 0);
+        CHECK.due("last step: first", x.standing(0, 0, 0), want[0]);
+        CHECK.due("last step: second", x.standing(0, 0, 1), want[1]);
     }
 
     private static void lotsInAGroupOfTheirOwn() {
