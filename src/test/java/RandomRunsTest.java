@@ -41,6 +41,9 @@ public final class RandomRunsTest {
         for (int seed = 0; seed < 240 * more; seed++) {
             new RandomRunsTest(check, "league", seed).league();
         }
+        for (int seed = 0; seed < 160 * more; seed++) {
+            new RandomRunsTest(check, "play", seed).onePlay(seed % 4);
+        }
         for (int seed = 0; seed < 120 * more; seed++) {
             new RandomRunsTest(check, "title", seed).title();
         }
@@ -328,6 +331,62 @@ public final class RandomRunsTest {
 
     private int day() {
         return chance(95) ? from(0, today + 2) : from(-1, 1000);
+    }
+
+    // ---- one match, played as long as there are calls
+
+    private void onePlay(int kind) {
+        sport = kind;
+        field = from(1, 6);
+        String text = sport == 0 && chance(50) ? "" : "sport " + SPORTS[sport] + ";";
+        twin.rules(text + "field" + field + ";target" + (sport == 1 ? from(2, 9) : from(2, 4)) + ";subs" + below(6)
+            + ";walkover" + from(1, 9) + ";");
+        twin.rules("");
+        makeClubs(2, 2, 2);
+        int each = field + below(5);
+        for (int p = 0; p < 2 * each; p++) {
+            twin.call("person");
+            twin.call("register", p, p % 2, 0, 999);
+            persons++;
+        }
+        for (int c = 0; c < 2; c++) {
+            twin.call("enter", c, 0);
+            twin.call("enter", c, 1);
+            twin.call("plan", c, 0);
+        }
+        matches = 2;
+        for (int p = 0; p < 2 * each; p++) {
+            twin.call("lineUp", p, 0, p % 2);
+        }
+        twin.call("eligible", below(persons), 1, below(2));
+        twin.call("start", 0);
+        int strong = below(2);
+        int share = from(40, 75);
+        while (twin.left() > 20) {
+            if (twin.house.match(0, 5) == 2 && chance(60) || chance(4)) {
+                oneReview(0);
+            } else {
+                smartEvent(strong, share);
+            }
+            twin.call("state", 0, from(0, 7));
+            if (chance(25)) {
+                twin.call("onField", 0, below(2), below(field));
+                twin.call("match", 0, from(5, 7));
+            }
+        }
+    }
+
+    private void smartEvent(int strong, int share) {
+        int side = sport == 3 ? twin.house.state(0, 5) : chance(share) ? strong : 1 - strong;
+        int on = twin.house.onField(0, side, below(field));
+        if (sport == 0) {
+            twin.call("event", 0, chance(4) ? 0 : chance(75) ? any(new Integer[] {1, 1, 2, 5, 5}) : from(3, 4), side, on,
+                below(persons));
+        } else if (sport == 3) {
+            twin.call("event", 0, chance(35) ? 4 : from(1, 3), side, 0, chance(80) ? 1 : from(2, 4));
+        } else {
+            twin.call("event", 0, sport == 1 && chance(4) ? 5 : 1, side, on, below(persons));
+        }
     }
 
     // ---- who can be first
