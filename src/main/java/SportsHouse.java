@@ -119,12 +119,12 @@ public final class SportsHouse {
         if (what < 0 || what >= RULES + KEYS) {
             return OUTSIDE;
         }
-        Competition of = season.competitions[c];
+        Competition contest = season.competitions[c];
         if (what < RULES) {
-            return of.rules[what];
+            return contest.rules[what];
         }
         int k = what - RULES;
-        return k < of.rules[KEY_COUNT] ? of.keys[k] : NONE;
+        return k < contest.rules[KEY_COUNT] ? contest.keys[k] : NONE;
     }
 
     // ---- things
@@ -199,14 +199,14 @@ public final class SportsHouse {
         if (!isCompetition(c) || !isClub(club)) {
             return UNKNOWN;
         }
-        Competition of = season.competitions[c];
-        if (of.planned || of.seat[club] != NONE) {
+        Competition contest = season.competitions[c];
+        if (contest.planned || contest.seat[club] != NONE) {
             return STATE;
         }
-        of.seat[club] = of.entered;
-        of.clubs[of.entered] = club;
-        of.entered++;
-        return of.entered;
+        contest.seat[club] = contest.entered;
+        contest.clubs[contest.entered] = club;
+        contest.entered++;
+        return contest.entered;
     }
 
     public int plan(int c, int first) {
@@ -216,31 +216,31 @@ public final class SportsHouse {
         if (!isDay(first) || first < things.today) {
             return OUTSIDE;
         }
-        Competition of = season.competitions[c];
-        if (of.planned || of.entered < 2 || first + (of.roundCount() - 1) * of.rules[EVERY] > LAST_DAY) {
+        Competition contest = season.competitions[c];
+        if (contest.planned || contest.entered < 2 || first + contest.daysFromFirstToLast() > LAST_DAY) {
             return STATE;
         }
-        if (season.matchCount + of.fixtureCount() > MATCHES) {
+        if (season.matchCount + contest.fixtureCount() > MATCHES) {
             return ROOM;
         }
-        season.schedule(of, first);
-        return of.firstMatch;
+        season.schedule(contest, first);
+        return contest.firstMatch;
     }
 
     public int match(int m, int what) {
         if (!isMatch(m)) {
             return UNKNOWN;
         }
-        Match of = season.matches[m];
+        Match fixture = season.matches[m];
         switch (what) {
-            case 0: return of.contest.number;
-            case 1: return of.round;
-            case 2: return of.home;
-            case 3: return of.away;
-            case 4: return of.date;
-            case 5: return of.phaseOfLife();
-            case 6: return of.scoreOf(0);
-            case 7: return of.scoreOf(1);
+            case 0: return fixture.contest.number;
+            case 1: return fixture.round;
+            case 2: return fixture.home;
+            case 3: return fixture.away;
+            case 4: return fixture.date;
+            case 5: return fixture.phaseOfLife();
+            case 6: return fixture.scoreOf(0);
+            case 7: return fixture.scoreOf(1);
             default: return OUTSIDE;
         }
     }
@@ -249,11 +249,11 @@ public final class SportsHouse {
         if (!isCompetition(c) || !isClub(club)) {
             return UNKNOWN;
         }
-        Competition of = season.competitions[c];
-        if (of.seat[club] == NONE || !of.planned) {
+        Competition contest = season.competitions[c];
+        if (contest.seat[club] == NONE || !contest.planned) {
             return STATE;
         }
-        return season.countBreaks(of, club);
+        return season.countBreaks(contest, club);
     }
 
     public int postpone(int m, int d) {
@@ -263,11 +263,11 @@ public final class SportsHouse {
         if (!isDay(d) || d <= things.today) {
             return OUTSIDE;
         }
-        Match of = season.matches[m];
-        if (of.phaseOfLife() != TOLD || of.date == d) {
+        Match fixture = season.matches[m];
+        if (fixture.phaseOfLife() != TOLD || fixture.date == d) {
             return STATE;
         }
-        return season.putOff(of, d);
+        return season.putOff(fixture, d);
     }
 
     public int moved(int k) {
@@ -310,33 +310,32 @@ public final class SportsHouse {
         if (!isSide(side)) {
             return OUTSIDE;
         }
-        Match of = season.matches[m];
-        if (of.phaseOfLife() != TOLD) {
+        Match fixture = season.matches[m];
+        if (fixture.phaseOfLife() != TOLD) {
             return STATE;
         }
-        if (of.listed[side] >= of.contest.rules[FIELD] + BENCH) {
+        if (fixture.listed[side] >= fixture.contest.rules[FIELD] + BENCH) {
             return ROOM;
         }
-        int why = season.whyNot(person, of, side);
+        int why = season.whyNot(person, fixture, side);
         if (why != 0) {
             return -10 - why;
         }
-        of.sheet[side * SHEET + of.listed[side]] = person;
-        of.listed[side]++;
-        return of.listed[side];
+        fixture.sheet[side * SHEET + fixture.listed[side]] = person;
+        fixture.listed[side]++;
+        return fixture.listed[side];
     }
 
     public int start(int m) {
         if (!isMatch(m)) {
             return UNKNOWN;
         }
-        Match of = season.matches[m];
-        int field = of.contest.rules[FIELD];
-        if (of.phaseOfLife() != TOLD || of.date != things.today || of.listed[0] < field || of.listed[1] < field) {
+        Match fixture = season.matches[m];
+        if (fixture.phaseOfLife() != TOLD || fixture.date != things.today || !fixture.hasEnoughListed()) {
             return STATE;
         }
-        of.play = new Play(of.contest.rules, of.sheet, of.listed);
-        of.play.backToBeginning();
+        fixture.play = new Play(fixture.contest.rules, fixture.sheet, fixture.listed);
+        fixture.play.backToBeginning();
         return 1;
     }
 
@@ -347,11 +346,11 @@ public final class SportsHouse {
         if (!isSide(side)) {
             return OUTSIDE;
         }
-        Match of = season.matches[m];
-        if (of.phaseOfLife() != TOLD || of.date > things.today) {
+        Match fixture = season.matches[m];
+        if (fixture.phaseOfLife() != TOLD || fixture.date > things.today) {
             return STATE;
         }
-        of.absent = side;
+        fixture.absent = side;
         return 1;
     }
 
@@ -480,12 +479,12 @@ public final class SportsHouse {
         if (!isDay(d) || what < 0 || what > 7) {
             return OUTSIDE;
         }
-        Competition of = season.competitions[c];
-        int seat = of.seat[club];
+        Competition contest = season.competitions[c];
+        int seat = contest.seat[club];
         if (seat == NONE) {
             return STATE;
         }
-        standings.tally(of, d);
+        standings.tally(contest, d);
         standings.rank();
         return standings.lines[seat * Standings.WIDTH + what];
     }
@@ -497,13 +496,13 @@ public final class SportsHouse {
         if (!isDay(d)) {
             return OUTSIDE;
         }
-        Competition of = season.competitions[c];
-        if (!isBelow(k, of.entered)) {
+        Competition contest = season.competitions[c];
+        if (!isBelow(k, contest.entered)) {
             return NONE;
         }
-        standings.tally(of, d);
+        standings.tally(contest, d);
         standings.rank();
-        return of.clubs[standings.order[k]];
+        return contest.clubs[standings.order[k]];
     }
 
     public int parted(int c, int d, int k) {
@@ -513,11 +512,11 @@ public final class SportsHouse {
         if (!isDay(d)) {
             return OUTSIDE;
         }
-        Competition of = season.competitions[c];
-        if (!isBelow(k, of.entered - 1)) {
+        Competition contest = season.competitions[c];
+        if (!isBelow(k, contest.entered - 1)) {
             return NONE;
         }
-        standings.tally(of, d);
+        standings.tally(contest, d);
         standings.rank();
         return standings.partedBy[k];
     }
@@ -526,11 +525,11 @@ public final class SportsHouse {
         if (!isCompetition(c) || !isClub(club)) {
             return UNKNOWN;
         }
-        Competition of = season.competitions[c];
-        if (of.seat[club] == NONE || !of.planned) {
+        Competition contest = season.competitions[c];
+        if (contest.seat[club] == NONE || !contest.planned) {
             return STATE;
         }
-        return title.ask(of, of.seat[club]);
+        return title.ask(contest, contest.seat[club]);
     }
 
     public int witness(int m) {
@@ -548,11 +547,11 @@ public final class SportsHouse {
         if (!isCompetition(c) || !isClub(club)) {
             return UNKNOWN;
         }
-        Competition of = season.competitions[c];
-        if (of.seat[club] == NONE || !of.planned) {
+        Competition contest = season.competitions[c];
+        if (contest.seat[club] == NONE || !contest.planned) {
             return STATE;
         }
-        return title.countFirsts(of, of.seat[club]);
+        return title.countFirsts(contest, contest.seat[club]);
     }
 
     // ---- draws
@@ -960,8 +959,9 @@ public final class SportsHouse {
             return entered + (entered & 1);
         }
 
-        int roundCount() {
-            return (placeCount() - 1) * rules[LEGS];
+        int daysFromFirstToLast() {
+            int rounds = (placeCount() - 1) * rules[LEGS];
+            return (rounds - 1) * rules[EVERY];
         }
 
         int fixtureCount() {
@@ -1015,6 +1015,10 @@ public final class SportsHouse {
 
         boolean has(int club) {
             return home == club || away == club;
+        }
+
+        boolean hasEnoughListed() {
+            return listed[0] >= contest.rules[FIELD] && listed[1] >= contest.rules[FIELD];
         }
 
         int rest() {
@@ -1278,8 +1282,8 @@ public final class SportsHouse {
             field[side * FIELD_MOST + fielded[side] - 1] = first;
         }
 
-        private static boolean isWon(int[] of, int side, int aim) {
-            return of[side] >= aim && of[side] - of[1 - side] >= 2;
+        private static boolean isWon(int[] counts, int side, int aim) {
+            return counts[side] >= aim && counts[side] - counts[1 - side] >= 2;
         }
 
         private void playTennis(int kind, int side) {
@@ -1466,46 +1470,46 @@ public final class SportsHouse {
             this.things = things;
         }
 
-        void schedule(Competition of, int first) {
-            of.planned = true;
-            of.firstMatch = matchCount;
-            int rounds = of.placeCount() - 1;
-            for (int leg = 0; leg < of.rules[LEGS]; leg++) {
+        void schedule(Competition contest, int first) {
+            contest.planned = true;
+            contest.firstMatch = matchCount;
+            int rounds = contest.placeCount() - 1;
+            for (int leg = 0; leg < contest.rules[LEGS]; leg++) {
                 for (int r = 0; r < rounds; r++) {
                     int round = leg * rounds + r;
-                    addRound(of, round, r, (leg & 1) == 1, first + round * of.rules[EVERY]);
+                    addRound(contest, round, r, (leg & 1) == 1, first + round * contest.rules[EVERY]);
                 }
             }
-            of.matchCount = matchCount - of.firstMatch;
+            contest.matchCount = matchCount - contest.firstMatch;
         }
 
-        private void addRound(Competition of, int round, int r, boolean turned, int date) {
-            int last = of.placeCount() - 1;
+        private void addRound(Competition contest, int round, int r, boolean turned, int date) {
+            int last = contest.placeCount() - 1;
             boolean evenRound = (r & 1) == 0;
-            addFixture(of, round, evenRound != turned ? r : last, evenRound != turned ? last : r, date);
+            addFixture(contest, round, evenRound != turned ? r : last, evenRound != turned ? last : r, date);
             for (int i = 1; i <= last / 2; i++) {
                 int up = (r + i) % last;
                 int down = (r - i + last) % last;
                 boolean upAtHome = (i & 1) == 1 != turned;
-                addFixture(of, round, upAtHome ? up : down, upAtHome ? down : up, date);
+                addFixture(contest, round, upAtHome ? up : down, upAtHome ? down : up, date);
             }
         }
 
-        private void addFixture(Competition of, int round, int home, int away, int date) {
+        private void addFixture(Competition contest, int round, int home, int away, int date) {
             // The place that is none is the one behind those who entered.
-            if (home >= of.entered || away >= of.entered || matchCount >= MATCHES) {
+            if (home >= contest.entered || away >= contest.entered || matchCount >= MATCHES) {
                 return;
             }
-            matches[matchCount] = new Match(of, matchCount, round, of.clubs[home], of.clubs[away], date);
+            matches[matchCount] = new Match(contest, matchCount, round, contest.clubs[home], contest.clubs[away], date);
             matchCount++;
         }
 
-        int countBreaks(Competition of, int club) {
+        int countBreaks(Competition contest, int club) {
             int found = 0;
             boolean any = false;
             boolean wasHome = false;
-            for (int k = 0; k < of.matchCount; k++) {
-                Match m = matches[of.firstMatch + k];
+            for (int k = 0; k < contest.matchCount; k++) {
+                Match m = matches[contest.firstMatch + k];
                 if (m.has(club)) {
                     boolean isHome = m.home == club;
                     if (any && isHome == wasHome) {
@@ -1707,7 +1711,7 @@ public final class SportsHouse {
         private static final int STEPS = 1000;
 
         private final Season season;
-        private Competition of;
+        private Competition contest;
         final int[] lines = new int[CLUBS * WIDTH];
         private final int[] away = new int[CLUBS];
         private final int[] fair = new int[CLUBS];
@@ -1727,27 +1731,27 @@ public final class SportsHouse {
 
         /** Adds up what a competition's decided matches up to a day gave. */
         void tally(Competition competition, int date) {
-            of = competition;
+            contest = competition;
             Arrays.fill(lines, 0);
             Arrays.fill(away, 0);
             Arrays.fill(fair, 0);
             Arrays.fill(headPoints, 0);
             Arrays.fill(headScored, 0);
-            for (int k = 0; k < of.matchCount; k++) {
-                Match m = season.matches[of.firstMatch + k];
+            for (int k = 0; k < contest.matchCount; k++) {
+                Match m = season.matches[contest.firstMatch + k];
                 if (m.date <= date && m.isDecided()) {
                     addResult(m, m.scoreOf(0), m.scoreOf(1));
                     addCards(m);
                 }
             }
-            for (int seat = 0; seat < of.entered; seat++) {
-                lines[seat * WIDTH + POINTS] -= season.deductedUpTo(date, of.number, of.clubs[seat]);
+            for (int seat = 0; seat < contest.entered; seat++) {
+                lines[seat * WIDTH + POINTS] -= season.deductedUpTo(date, contest.number, contest.clubs[seat]);
             }
         }
 
         void addResult(Match m, int homeScore, int awayScore) {
-            int homeSeat = of.seat[m.home];
-            int awaySeat = of.seat[m.away];
+            int homeSeat = contest.seat[m.home];
+            int awaySeat = contest.seat[m.away];
             if (homeSeat == NONE || awaySeat == NONE) {
                 return;
             }
@@ -1760,7 +1764,7 @@ public final class SportsHouse {
             int line = seat * WIDTH;
             int result = scored > against ? WON : scored == against ? DRAWN : LOST;
             // The rules have win, draw and loss in the order of won, drawn and lost.
-            int points = of.rules[WIN + result - WON];
+            int points = contest.rules[WIN + result - WON];
             lines[line + PLAYED]++;
             lines[line + result]++;
             lines[line + SCORED] += scored;
@@ -1775,7 +1779,7 @@ public final class SportsHouse {
                 return;
             }
             for (int side = 0; side < 2; side++) {
-                int seat = of.seat[side == 0 ? m.home : m.away];
+                int seat = contest.seat[side == 0 ? m.home : m.away];
                 for (int k = 0; seat != NONE && k < m.listed[side]; k++) {
                     int place = side * SHEET + k;
                     fair[seat] += m.play.yellows[place] + (m.play.isSentOff(place) ? 3 : 0);
@@ -1790,13 +1794,13 @@ public final class SportsHouse {
                 partedBy[k] = NONE;
             }
             waiting = 0;
-            putWaiting(0, of.entered, 0);
+            putWaiting(0, contest.entered, 0);
             for (int steps = 0; waiting > 0 && steps < STEPS; steps++) {
                 waiting--;
                 orderGroup(waitingFrom[waiting], waitingTo[waiting], waitingKey[waiting]);
             }
             int place = 1;
-            for (int k = 0; k < of.entered; k++) {
+            for (int k = 0; k < contest.entered; k++) {
                 if (k > 0 && partedBy[k - 1] != NONE) {
                     place = k + 1;
                 }
@@ -1805,7 +1809,7 @@ public final class SportsHouse {
         }
 
         private void putWaiting(int from, int to, int key) {
-            boolean done = to - from < 2 || key > of.rules[KEY_COUNT];
+            boolean done = to - from < 2 || key > contest.rules[KEY_COUNT];
             if (!done && waiting < WAITING) {
                 waitingFrom[waiting] = from;
                 waitingTo[waiting] = to;
@@ -1818,7 +1822,7 @@ public final class SportsHouse {
             weigh(from, to, key);
             sort(from, to);
             boolean oneClass = worth[order[from]] == worth[order[to - 1]];
-            int next = !oneClass && of.rules[REDO] == 1 ? 0 : key + 1;
+            int next = !oneClass && contest.rules[REDO] == 1 ? 0 : key + 1;
             int begin = from;
             for (int k = from + 1; k <= to; k++) {
                 if (k == to || worth[order[k]] != worth[order[k - 1]]) {
@@ -1834,7 +1838,7 @@ public final class SportsHouse {
         private void weigh(int from, int to, int key) {
             int group = 0;
             for (int k = from; k < to; k++) {
-                group |= 1 << of.clubs[order[k]];
+                group |= 1 << contest.clubs[order[k]];
             }
             for (int k = from; k < to; k++) {
                 worth[order[k]] = worthOf(order[k], key, group);
@@ -1846,14 +1850,14 @@ public final class SportsHouse {
             if (key == 0) {
                 return lines[line + POINTS];
             }
-            switch (of.keys[key - 1]) {
+            switch (contest.keys[key - 1]) {
                 case 0: return lines[line + SCORED] - lines[line + AGAINST];
                 case 1: return lines[line + SCORED];
                 case 2: return lines[line + WON];
                 case 3: return away[seat];
                 case 4: return headWorth(seat, group);
                 case 5: return -fair[seat];
-                default: return lot(of.clubs[seat], group);
+                default: return lot(contest.clubs[seat], group);
             }
         }
 
@@ -1862,8 +1866,8 @@ public final class SportsHouse {
             long points = 0;
             long scored = 0;
             long against = 0;
-            for (int other = 0; other < of.entered; other++) {
-                if ((group >> of.clubs[other] & 1) != 0) {
+            for (int other = 0; other < contest.entered; other++) {
+                if ((group >> contest.clubs[other] & 1) != 0) {
                     points += headPoints[seat * CLUBS + other];
                     scored += headScored[seat * CLUBS + other];
                     against += headScored[other * CLUBS + seat];
@@ -1873,7 +1877,7 @@ public final class SportsHouse {
         }
 
         private int lot(int club, int group) {
-            int x = (of.rules[SEED] * 1000003 + group) * 31 + club;
+            int x = (contest.rules[SEED] * 1000003 + group) * 31 + club;
             x = (x ^ x >>> 16) * 73244475;
             x = (x ^ x >>> 16) * 73244475;
             x = x ^ x >>> 16;
@@ -1907,7 +1911,7 @@ public final class SportsHouse {
         int cutBits;
         final int[] results = new int[MATCHES];
 
-        private Competition of;
+        private Competition contest;
         private int best;
         private final int[] points = new int[CLUBS];
         private final int[] open = new int[MANY];
@@ -1927,11 +1931,11 @@ public final class SportsHouse {
         }
 
         int ask(Competition competition, int seat) {
-            of = competition;
+            contest = competition;
             cutBits = 0;
             Arrays.fill(results, NONE);
-            boolean even = of.rules[WIN] + of.rules[LOSS] == 2 * of.rules[DRAW];
-            if (!listOpen(of.clubs[seat], even ? MANY : FEW)) {
+            boolean even = contest.rules[WIN] + contest.rules[LOSS] == 2 * contest.rules[DRAW];
+            if (!listOpen(contest.clubs[seat], even ? MANY : FEW)) {
                 answer = 2;
                 return answer;
             }
@@ -1951,8 +1955,8 @@ public final class SportsHouse {
         /** Lists the matches left without the club, and settles its own; false: there are too many. */
         private boolean listOpen(int club, int most) {
             openCount = 0;
-            for (int k = 0; k < of.matchCount; k++) {
-                Match m = season.matches[of.firstMatch + k];
+            for (int k = 0; k < contest.matchCount; k++) {
+                Match m = season.matches[contest.firstMatch + k];
                 if (m.isDecided()) {
                     continue;
                 }
@@ -1970,24 +1974,24 @@ public final class SportsHouse {
 
         /** The points of all with the club's own matches won, and what is best by that. */
         private void takePoints(int seat) {
-            standings.tally(of, LAST_DAY);
-            for (int s = 0; s < of.entered; s++) {
+            standings.tally(contest, LAST_DAY);
+            for (int s = 0; s < contest.entered; s++) {
                 points[s] = standings.lines[s * Standings.WIDTH + Standings.POINTS];
             }
-            for (int k = 0; k < of.matchCount; k++) {
-                Match m = season.matches[of.firstMatch + k];
+            for (int k = 0; k < contest.matchCount; k++) {
+                Match m = season.matches[contest.firstMatch + k];
                 if (results[m.number] != NONE) {
-                    int homeSeat = of.seat[m.home];
-                    int awaySeat = of.seat[m.away];
-                    points[homeSeat] += of.rules[homeSeat == seat ? WIN : LOSS];
-                    points[awaySeat] += of.rules[awaySeat == seat ? WIN : LOSS];
+                    int homeSeat = contest.seat[m.home];
+                    int awaySeat = contest.seat[m.away];
+                    points[homeSeat] += contest.rules[homeSeat == seat ? WIN : LOSS];
+                    points[awaySeat] += contest.rules[awaySeat == seat ? WIN : LOSS];
                 }
             }
             best = points[seat];
         }
 
         private boolean noneAbove(int seat) {
-            for (int s = 0; s < of.entered; s++) {
+            for (int s = 0; s < contest.entered; s++) {
                 if (s != seat && points[s] > best) {
                     return false;
                 }
@@ -2001,11 +2005,11 @@ public final class SportsHouse {
                 return true;
             }
             Match m = season.matches[open[k]];
-            int homeSeat = of.seat[m.home];
-            int awaySeat = of.seat[m.away];
+            int homeSeat = contest.seat[m.home];
+            int awaySeat = contest.seat[m.away];
             for (int result = 0; result <= 2; result++) {
-                int forHome = of.rules[WIN + result];
-                int forAway = of.rules[LOSS - result];
+                int forHome = contest.rules[WIN + result];
+                int forAway = contest.rules[LOSS - result];
                 points[homeSeat] += forHome;
                 points[awaySeat] += forAway;
                 results[m.number] = result;
@@ -2022,12 +2026,12 @@ public final class SportsHouse {
 
         /** How many parts, of two a match, each other club may still take. */
         private void setCaps(int seat) {
-            int part = of.rules[WIN] - of.rules[DRAW];
-            for (int s = 0; s < of.entered; s++) {
+            int part = contest.rules[WIN] - contest.rules[DRAW];
+            for (int s = 0; s < contest.entered; s++) {
                 int spare = best - points[s];
                 for (int k = 0; k < openCount; k++) {
-                    if (season.matches[open[k]].has(of.clubs[s])) {
-                        spare -= of.rules[LOSS];
+                    if (season.matches[open[k]].has(contest.clubs[s])) {
+                        spare -= contest.rules[LOSS];
                     }
                 }
                 cap[s] = spare < 0 ? -1 : part == 0 ? FREE : spare / part;
@@ -2042,7 +2046,7 @@ public final class SportsHouse {
                 homeParts[k] = 2;
                 load[homeSeatOf(k)] += 2;
             }
-            for (int s = 0; s < of.entered; s++) {
+            for (int s = 0; s < contest.entered; s++) {
                 int over = s == seat ? 0 : load[s] - cap[s];
                 for (int n = 0; n < over; n++) {
                     if (!relieve(s, 0)) {
@@ -2074,11 +2078,11 @@ public final class SportsHouse {
         }
 
         private int homeSeatOf(int k) {
-            return of.seat[season.matches[open[k]].home];
+            return contest.seat[season.matches[open[k]].home];
         }
 
         private int awaySeatOf(int k) {
-            return of.seat[season.matches[open[k]].away];
+            return contest.seat[season.matches[open[k]].away];
         }
 
         /** Takes a part from a club over matches from k on to one that is not full, by the shortest way. */
@@ -2138,15 +2142,15 @@ public final class SportsHouse {
             }
             slack[0] = 0;
             int others = 0;
-            for (int s = 0; s < of.entered; s++) {
-                others |= s == seat ? 0 : 1 << of.clubs[s];
+            for (int s = 0; s < contest.entered; s++) {
+                others |= s == seat ? 0 : 1 << contest.clubs[s];
             }
             int set = 0;
             for (int steps = 1; steps < 1 << CLUBS && set != others; steps++) {
                 set = set - others & others;
                 int lowest = Integer.numberOfTrailingZeros(set);
                 int rest = set & set - 1;
-                slack[set] = slack[rest] + cap[of.seat[lowest]] - 2 * openBetween(lowest, rest);
+                slack[set] = slack[rest] + cap[contest.seat[lowest]] - 2 * openBetween(lowest, rest);
                 if (slack[set] < 0) {
                     return set;
                 }
@@ -2167,11 +2171,11 @@ public final class SportsHouse {
 
         /** In how many rows of results of what is left a club is first; NONE: too much is left. */
         int countFirsts(Competition competition, int seat) {
-            of = competition;
+            contest = competition;
             int left = 0;
             int rows = 1;
-            for (int k = 0; k < of.matchCount; k++) {
-                Match m = season.matches[of.firstMatch + k];
+            for (int k = 0; k < contest.matchCount; k++) {
+                Match m = season.matches[contest.firstMatch + k];
                 if (!m.isDecided()) {
                     if (left >= FIRSTS_MOST) {
                         return NONE;
@@ -2191,7 +2195,7 @@ public final class SportsHouse {
         }
 
         private boolean isFirstBy(int row, int left, int seat) {
-            standings.tally(of, LAST_DAY);
+            standings.tally(contest, LAST_DAY);
             int rest = row;
             for (int k = 0; k < left; k++) {
                 int result = rest % 3;
