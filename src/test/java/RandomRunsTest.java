@@ -44,10 +44,10 @@ public final class RandomRunsTest {
         for (int seed = 0; seed < 160 * more; seed++) {
             new RandomRunsTest(check, "play", seed).onePlay(seed % 4);
         }
-        for (int seed = 0; seed < 120 * more; seed++) {
+        for (int seed = 0; seed < 360 * more; seed++) {
             new RandomRunsTest(check, "title", seed).title();
         }
-        for (int seed = 0; seed < 80 * more; seed++) {
+        for (int seed = 0; seed < 360 * more; seed++) {
             new RandomRunsTest(check, "tight", seed).tightTitle();
         }
         for (int seed = 0; seed < 120 * more; seed++) {
@@ -451,8 +451,9 @@ public final class RandomRunsTest {
     private void tightTitle() {
         String[] points = {"points 2 1 0;", "points 4 2 0;", "points 3 2 1;", "points 6 3 0;", ""};
         int kind = below(points.length);
-        int c = twin.rules(points[kind] + "every1;" + (chance(50) ? "legs2;" : ""));
-        makeClubs(kind == 4 ? from(3, 5) : from(4, 7), 4, 3);
+        int legs = kind == 4 ? 1 : from(1, 4);
+        int c = twin.rules(points[kind] + "every1;legs" + legs + ";");
+        makeClubs(kind == 4 ? from(3, 5) : from(4, legs > 2 ? 5 : 7), 4, 3);
         enterAll(c);
         twin.call("plan", c, 0);
         matches = twin.house.count(5);

@@ -178,7 +178,7 @@ public final class StandingsTest {
     private static void partsOfHead() {
         standings("of equals scored", ringOfThree("order head;", 2, 1, 1, 0, 1, 0), new int[] {1, 2, 0},
             new int[] {1, 1, 3}, new int[] {NONE, 1});
-        standings("diff ahead of scored", ringOfThree("order head;", 1, 0, 5, 4, 2, 0), new int[] {0, 2, 1},
+        standings("diff ahead of scored", ringOfThree("order head;", 5, 4, 1, 0, 2, 0), new int[] {0, 2, 1},
             new int[] {1, 2, 3}, new int[] {1, 1});
         SportsHouse x = Setup.league("order head;legs3;every1;field1;", 2, 1);
         play(x, 0, 1, 0);
