@@ -42,6 +42,10 @@ final class EdgesDraw {
             clubs 2 | drawing 1 1 = 1 | pot 0 0 = 1 | ball 0 true = 0 | drawn 0 = 0 | drawing 2 1 = 1 | drawn 0 = NONE | ways = 1
             chance 0 0 = UNKNOWN | pot 0 2 = 1 | pot 1 2 = 2 | ways = 2
             """);
+        e.edge(36, "A new DRAW: 1.", """
+            clubs 2 | drawing 2 1 = 1 | pot 0 0 = 1 | pot 1 0 = 2 | ball 0 true | drawing 2 1 = 1 | ball 0 true = STATE | ways = 1
+            pot 1 0 = 1 | ways = 2 | drawing 2 1 = 1 | ways = 1 | ball 0 true = STATE
+            """);
         // One that is refused leaves the draw as it is.
         e.edge(36, "OUTSIDE.", """
             clubs 2 | drawing 2 1 = 1 | pot 0 0 = 1 | drawing 0 1 = OUTSIDE | drawing 2 4 = OUTSIDE | ways = 2 | pot 0 0 = STATE
@@ -264,10 +268,20 @@ final class EdgesDraw {
                 + "behind so many as TAKEN below m tells", "clubs 6 | drawing 3 3 = 1 | pot 0 2 | pot 5 1 | pot 3 1 | pot 4 1"
                 + "\nball " + start + " true = " + (8 * club + group) + " | drawn " + club + " = " + group);
         }
+        // The least pot has one club, the next has two.
+        for (int start = 0; start < 6; start++) {
+            seed = start;
+            below(1);
+            e.edge(40, "of the least pot with clubs that are not DRAWN", "clubs 3 | drawing 2 3 = 1 | pot 0 1 | pot 1 2 | pot 2 2"
+                + "\nball " + start + " true = " + below(4) / 2);
+        }
         // Of one country with limit 1: the group of the second is what the first leaves.
         e.edge(40, "of the GROUPS in order, the first in which the ways so far and with it there are together above what TAKEN "
             + "below all ways tells", "2* club 0 7 | drawing 2 1 = 1 | pot 0 0 | pot 1 1 | ball " + seedForTwo(1)
-            + " true = 1 | ball 0 false = 8");
+            + " true = 1 | ways = 1 | chance 1 0 = 1 | chance 1 1 = 0 | ball 0 false = 8");
+        // Those that are drawn count for the LIMIT in their group, by their own country.
+        e.edge(40, "DRAWN ones stay.", "club 0 7 | club 0 6 | club 0 7 | club 0 6 | drawing 2 1 = 1 | pot 0 0 | pot 1 0 | pot 2 1"
+            + " | pot 3 1\nways = 2 | ball 0 true | ways = 1 | 3* ball 0 false | ways = 1");
         e.edge(40, "8 times the club, and the GROUP", "clubs 12 | drawing 1 3 = 1 | pot 11 0 = 1 | ball 0 true = 88 | drawn 11 = 0");
     }
 

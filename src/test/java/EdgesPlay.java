@@ -30,9 +30,11 @@ final class EdgesPlay {
         baseballWithoutEnd(e);
         reviewBounds(e);
         reviewLaws(e);
+        sameRows(e);
         reviewsInPlace(e);
         reviewsAside(e);
         reviewsOfEnds(e);
+        reviewsOfOtherSports(e);
         rows(e);
         row(e);
         states(e);
@@ -580,6 +582,14 @@ final class EdgesPlay {
             """);
     }
 
+    private static void sameRows(Edges e) {
+        e.edge(24, "-20: the same four numbers", """
+            begun 2 field2; | event 0 1 0 0 5 | event 0 1 1 2 6 | event 0 2 0 1 7 | event 0 3 1 3 8 | review 0 3 3 1 3 8 = -20
+            review 0 2 2 0 1 7 = -20 | review 0 1 1 1 2 6 = -20 | review 0 0 1 0 0 5 = -20 | review 0 3 1 0 0 5 = 0
+            review 0 3 1 0 0 5 = -20 | review 0 2 1 0 1 7 = 0 | review 0 1 1 1 3 6 = 0 | review 0 0 1 0 0 6 = 0
+            """);
+    }
+
     private static void reviewsInPlace(Edges e) {
         e.edge(24, "puts another event in the place of one of its rows", """
             begun 1 field1; | event 0 1 0 0 0 | event 0 1 1 1 0 | event 0 1 0 0 0 | review 0 1 2 0 0 5 = 0 | rows 0 0 = 3
@@ -648,6 +658,30 @@ final class EdgesPlay {
             """);
     }
 
+    private static void reviewsOfOtherSports(Edges e) {
+        String words = "Then the match is run anew from its beginning, row by row";
+        e.edge(24, words, """
+            begun 1 sport tennis;field1;target2; | 6* event 0 1 0 0 0 | event 0 1 1 0 0 | state 0 3 = 1 | state 0 1 = 2 | state 0 2 = 1
+            review 0 0 1 1 0 0 = 0 | state 0 3 = 1 | state 0 4 = 0 | state 0 1 = 1 | state 0 2 = 1 | state 0 5 = 1
+            review 0 5 1 1 0 0 = 0 | review 0 4 1 1 0 0 = 0 | state 0 3 = 0 | state 0 1 = 3 | state 0 2 = 4 | state 0 5 = 0
+            """);
+        e.edge(24, words, """
+            begun 1 sport tennis;field1;target2; | 8* event 0 1 0 0 0 | match 0 6 = 1 | state 0 0 = 1 | review 0 7 6 0 0 0 = 0
+            match 0 5 = 2 | match 0 6 = 0 | match 0 7 = 2 | state 0 0 = 0 | state 0 3 = 1 | state 0 1 = 3
+            """);
+        e.edge(24, words, """
+            begun 1 sport baseball;field1;target2; | event 0 1 1 0 2 | event 0 4 1 0 0 | event 0 2 1 0 0 | event 0 3 1 0 0
+            state 0 4 = 2 | state 0 3 = 1 | state 0 1 = 1 | state 0 2 = 1 | review 0 0 1 1 0 1 = 0 | state 0 4 = 1 | state 0 3 = 1
+            state 0 1 = 1 | state 0 2 = 1 | review 0 3 1 1 0 4 = 0 | match 0 7 = 2 | state 0 4 = 0 | state 0 1 = 0
+            review 0 0 4 1 0 0 = 0 | match 0 7 = 1 | state 0 3 = 2 | review 0 2 4 1 0 0 = 1 | state 0 5 = 0 | match 0 7 = 0
+            """);
+        e.edge(24, words, """
+            begun 2 sport volleyball;field1;target3; | 4* event 0 1 0 0 0 | event 0 5 1 2 3 | state 0 1 = 1 | state 0 7 = 1
+            review 0 2 1 1 0 0 = 0 | match 0 6 = 1 | state 0 1 = 0 | state 0 0 = 1 | state 0 7 = 1 | review 0 1 1 1 0 0 = 0
+            match 0 6 = 0 | state 0 1 = 2 | state 0 2 = 2 | state 0 0 = 0 | onField 0 1 0 = 3
+            """);
+    }
+
     private static void rows(Edges e) {
         e.edge(25, "UNKNOWN; OUTSIDE.", """
             rows 0 0 = UNKNOWN | league 2 1 field1; | rows 1 0 = UNKNOWN | rows -1 0 = UNKNOWN | rows MIN 0 = UNKNOWN
@@ -672,6 +706,11 @@ final class EdgesPlay {
             row 0 0 -1 = OUTSIDE | row 0 0 8 = OUTSIDE | row 0 0 MIN = OUTSIDE | row 0 0 MAX = OUTSIDE | row 0 0 4 = UNKNOWN
             review 0 0 1 0 1 7 = 1 | row 0 0 4 = 1 | row 0 0 5 = 0 | row 0 0 6 = 1 | row 0 0 7 = 7 | row 0 1 4 = UNKNOWN
             row 0 1 0 = UNKNOWN | row 0 -1 7 = UNKNOWN | row 0 0 0 = 1 | row 0 0 3 = 6
+            """);
+        // There is neither such a row nor such a number: the first of both counts.
+        e.edge(26, "Calls answer, the first of these that fits", """
+            begun 1 field1; | row 0 0 8 = UNKNOWN | row 0 0 -1 = UNKNOWN | event 0 1 0 0 0 | row 0 1 8 = UNKNOWN | row 0 -1 -1 = UNKNOWN
+            row 1 0 8 = UNKNOWN | row 0 0 8 = OUTSIDE
             """);
         e.edge(26, "Of row i of a match", """
             league 2 1 field1; | row 0 0 0 = UNKNOWN | row 0 0 7 = UNKNOWN | walkOver 0 0 = 1 | row 0 0 0 = UNKNOWN

@@ -140,6 +140,9 @@ final class EdgesSheets {
             + "eligible 0 1 1 = 2 | eligible 0 2 0 = 2 | eligible 0 3 1 = 2 | eligible 1 3 1 = 0");
         e.edge(19, "with the second one in this match it is SENT OFF", "league 2 3 " + SERIES + "\n"
             + game(0, 0, 1, 3, 4, "event 0 3 0 0 0 | event 0 3 0 0 0") + "eligible 0 1 1 = 2 | eligible 1 1 1 = 0");
+        // Who was substituted was not sent off.
+        e.edge(19, words, "league 2 4 " + SERIES + "\nlineUp 0 0 0 | lineUp 1 0 0 | lineUp 2 0 0 | lineUp 4 0 1 | lineUp 5 0 1"
+            + "\nstart 0 = 1 | event 0 5 0 0 2 | event 0 4 0 2 0 | whistles 0 | eligible 0 1 1 = 0 | eligible 2 1 1 = 2");
         // Sent off again in a match that was to be served: one is served by it, one is new.
         e.edge(19, "if DEBT is above 0 it is one less; then it grows by what came of it", "league 2 3 " + SERIES
             + "\nlineUp 0 1 1 = 1\n" + red + "day 1 | lineUp 1 1 1 | lineUp 3 1 0 | lineUp 4 1 0 | start 1 = 1"
@@ -220,12 +223,30 @@ final class EdgesSheets {
     }
 
     private static void aheadOf(Edges e) {
+        // No match is ahead of itself.
+        e.edge(19, "and are ahead of x", "league 2 3 " + SERIES + "\n" + game(0, 0, 1, 3, 4, "event 0 4 0 0 0")
+            + "eligible 0 0 0 = 3 | eligible 0 1 1 = 2");
         // Match 0 is behind all others by its day, so a red of match 1 is served in match 2.
         e.edge(19, "ahead of x (on a day before, or on its day with a lesser number)", "league 2 3 " + SERIES
             + "\npostpone 0 9 = 0\n" + game(1, 3, 4, 0, 1, "event 1 4 1 0 0") + "eligible 0 0 0 = 2\n"
             + game(2, 1, 2, 3, 4, "") + "eligible 0 0 0 = 0 | eligible 0 3 1 = 0");
         e.edge(19, "ahead of x (on a day before, or on its day with a lesser number)", "league 2 3 " + SERIES
             + "\nwalkOver 0 0 = 1\n" + game(1, 3, 4, 0, 1, "event 1 4 1 0 0") + "eligible 0 0 0 = 0 | eligible 0 2 0 = 2");
+        // Match 0, the one of the least number, comes last: what came of it bars from no other.
+        e.edge(19, "ahead of x (on a day before, or on its day with a lesser number)", "league 2 3 " + SERIES
+            + "\npostpone 0 9 = 0\n" + game(1, 3, 4, 0, 1, "") + "day 9 | lineUp 2 0 0 | lineUp 1 0 0 | lineUp 3 0 1 | lineUp 4 0 1"
+            + "\nstart 0 = 1 | event 0 4 0 2 0 | whistles 0 | eligible 2 1 1 = 0 | eligible 2 2 0 = 0 | eligible 2 3 1 = 0");
+        // By days 2, 1, 0, 3: two to serve behind match 2 are served in 1 and 0.
+        e.edge(19, "by days, then numbers", "league 2 3 red2;" + SERIES + "\npostpone 0 20 = 0 | postpone 1 19 = 0"
+            + "\npostpone 2 18 = 0 | postpone 3 21 = 0 | day 18 | lineUp 0 2 0 | lineUp 1 2 0 | lineUp 3 2 1 | lineUp 4 2 1"
+            + "\nstart 2 = 1 | event 2 4 0 0 0 | whistles 2 | eligible 0 1 1 = 2 | day 19 | walkOver 1 0 = 1 | eligible 0 0 0 = 2"
+            + "\nday 20 | lineUp 1 0 0 | lineUp 2 0 0 | lineUp 3 0 1 | lineUp 4 0 1 | start 0 = 1 | event 0 4 1 4 0 | whistles 0"
+            + "\neligible 0 3 1 = 0 | eligible 4 3 0 = 2");
+        // By days 2, 1, 0, 3: of two to serve behind match 1, the one in the middle, one is served in 0.
+        e.edge(19, "by days, then numbers", "league 2 3 red2;" + SERIES + "\npostpone 0 20 = 0 | postpone 1 19 = 0"
+            + "\npostpone 2 18 = 0 | postpone 3 21 = 0 | day 18 | walkOver 2 0 = 1 | day 19 | lineUp 0 1 1 | lineUp 1 1 1"
+            + "\nlineUp 3 1 0 | lineUp 4 1 0 | start 1 = 1 | event 1 4 1 1 0 | whistles 1 | day 20 | walkOver 0 0 = 1"
+            + "\neligible 1 3 1 = 2 | eligible 0 3 1 = 0");
         // By days match 1 comes first, then 0: the red of match 0 is not served by match 1.
         e.edge(19, "by days, then numbers", "league 2 3 " + SERIES + "\npostpone 2 20 = 0 | postpone 3 21 = 0"
             + "\npostpone 0 9 = 0\n" + game(1, 3, 4, 0, 1, "") + "day 9 | lineUp 0 0 0 | lineUp 1 0 0 | lineUp 3 0 1"

@@ -24,7 +24,9 @@ final class EdgesStandings {
         away(e);
         head(e);
         fair(e);
+        headAnew(e);
         lots(e);
+        lastStepOfLots(e);
         lotsOfGroups(e);
     }
 
@@ -141,6 +143,10 @@ final class EdgesStandings {
             parted -1 0 0 = UNKNOWN | parted MIN 0 0 = UNKNOWN | parted 1 1000 0 = UNKNOWN | parted 0 -1 0 = OUTSIDE
             parted 0 1000 0 = OUTSIDE | parted 0 MAX 9 = OUTSIDE | parted 0 999 1 = 0
             """);
+        e.edge(31, "or there are none such", """
+            competition | clubs 12 | 12* enter 0 @ | 12* deduct 0 @ 1 | deduct 0 0 1 | parted 0 0 10 = 0 | parted 0 0 11 = NONE
+            parted 0 0 12 = NONE | parted 0 0 13 = NONE | parted 0 0 9 = NONE
+            """);
         e.edge(31, "0 POINTS, 1 the first KEY of order, and so on", """
             rules order diff,scored,wins,away,head,fair,lots; = 0 | clubs 2 | 2* enter 0 @ | parted 0 0 0 = 7 | deduct 0 0 1
             parted 0 0 0 = 0
@@ -235,6 +241,25 @@ final class EdgesStandings {
             + stands(new int[] {0, 1, 2}, new int[] {1, 1, 1}, -1, -1));
     }
 
+    private static void headAnew(Edges e) {
+        // What another competition, or a later day, was asked for before is not in it.
+        e.edge(30, "among matches between two of the GROUP alone", """
+            rules points 0 0 0;order head;every1; = 0 | rules points 0 0 0;order head;every1; = 1 | clubs 3 | 3* enter 0 @
+            3* enter 1 @ | plan 0 0 = 0 | plan 1 5 = 3 | walkOver 0 1 = 1 | day 1 | walkOver 1 0 = 1 | parted 0 1 0 = NONE
+            parted 0 1 1 = 1 | standing 0 1 2 = 2 | parted 1 1 0 = NONE | parted 1 1 1 = NONE | table 1 999 2 7 = 1
+            standing 0 0 0 = 1 | standing 0 0 1 = 0 | standing 0 0 2 = 2
+            """);
+        e.edge(30, "POINTS (nothing deducted)", """
+            rules order head; = 0 | rules order head; = 1 | clubs 2 | 2* enter 0 @ | 2* enter 1 @ | plan 0 0 = 0 | walkOver 0 0 = 1
+            deduct 0 1 3 | parted 0 0 0 = 1 | standing 0 0 0 = 1 | parted 1 0 0 = NONE | standing 1 0 0 = 0
+            """);
+        // Twelve clubs of which two have met: the eleven behind the winner have no match between two of them.
+        e.edge(30, "head: among matches between two of the GROUP alone", """
+            league 12 0 order head;every1; | 12* table 0 0 @ 7 = 1 | walkOver 0 0 = 1 | standing 0 0 0 = 11 | table 0 0 0 7 = 2
+            table 0 0 10 7 = 2 | parted 0 0 0 = 0 | parted 0 0 1 = NONE | parted 0 0 10 = NONE
+            """);
+    }
+
     private static void fair(Edges e) {
         String begin = "begun 3 points 1 1 1;order fair;field3; | ";
         e.edge(30, "fair: less is better: 1 for each YELLOW", begin + "event 0 3 0 0 0 | whistles 0"
@@ -248,6 +273,25 @@ final class EdgesStandings {
             + "\nevent 0 4 1 3 0 | event 0 3 1 4 0 | whistles 0" + stands(new int[] {0, 1}, new int[] {1, 1}, -1));
         e.edge(30, "(in a match ended", begin + "event 0 3 0 0 0 | 2* event 0 0 0 0 0 | table 0 0 0 7 = 1 | event 0 0 0 0 0"
             + "\ntable 0 0 0 7 = 2");
+        // Who was substituted was not sent off.
+        e.edge(30, "3 for each sent off", """
+            begun 2 points 1 1 1;order fair;field1; | event 0 5 0 0 1 | whistles 0 | table 0 0 0 7 = 1 | table 0 0 1 7 = 1
+            """);
+        // Full sheets of ten on both sides; the last of one side and the first of the other have a yellow each.
+        e.edge(30, "of those that were of the club on its sheets", """
+            begun 10 points 1 1 1;order fair;field6; | event 0 5 0 0 9 | event 0 3 0 9 0 | event 0 3 1 10 0 | whistles 0
+            table 0 0 0 7 = 1 | table 0 0 1 7 = 1 | parted 0 0 0 = NONE
+            """);
+        e.edge(30, "of those that were of the club on its sheets", """
+            begun 10 points 1 1 1;order fair;field6; | event 0 3 1 10 0 | whistles 0 | table 0 0 0 7 = 1 | table 0 0 1 7 = 2
+            """);
+        // What another competition, or a later day, was asked for before is not in it.
+        e.edge(30, "fair: less is better", """
+            rules points 1 1 1;order fair;field1; = 0 | rules points 1 1 1;order fair;field1; = 1 | clubs 2 | 2* person
+            register 0 0 0 999 | register 1 1 0 999 | 2* enter 0 @ | 2* enter 1 @ | plan 0 5 = 0 | plan 1 5 = 1 | lineUp 0 0 0
+            lineUp 1 0 1 | day 5 | start 0 = 1 | event 0 3 0 0 0 | whistles 0 | walkOver 1 0 = 1 | parted 0 5 0 = 1
+            parted 1 5 0 = NONE | parted 0 5 0 = 1 | parted 0 4 0 = NONE | standing 0 5 0 = 1 | standing 1 5 0 = 0
+            """);
         // Substituted, it was of the club on its sheet all the same.
         e.edge(30, "of those that were of the club on its sheets", """
             begun 2 points 1 1 1;order fair;field1; | event 0 3 0 0 0 | event 0 5 0 0 1 | whistles 0 | table 0 0 0 7 = 2
@@ -292,6 +336,16 @@ final class EdgesStandings {
             }
             script.append("standing 1 0 0 = ").append(two[0]).append(" | standing 1 0 1 = ").append(two[1]);
             e.edge(30, words, script.toString());
+        }
+    }
+
+    private static void lastStepOfLots(Edges e) {
+        // Of these seeds and clubs the highest bits are alike, so that the last step alone tells who is first.
+        int[][] near = {{540, 4, 6}, {693, 4, 6}, {229, 1, 7}, {454, 4, 7}, {856, 1, 5}};
+        for (int[] n : near) {
+            int[] two = lotOrder(n[0], n[1], n[2]);
+            e.edge(30, "and, but the third time, x = x * 73244475", "rules order lots;seed " + n[0] + "; = 0 | clubs 8 | enter 0 "
+                + n[1] + " | enter 0 " + n[2] + stands(two, new int[] {1, 2}, 1));
         }
     }
 

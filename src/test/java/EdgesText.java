@@ -242,6 +242,10 @@ final class EdgesText {
         fault(e, words, "order diff scored;", 2, 11);
         fault(e, words, "order diff,diff;", 5, 11);
         fault(e, words, "order diff,scored,diff;", 5, 18);
+        for (String key : new String[] {"scored", "wins", "away", "head", "fair", "lots"}) {
+            fault(e, words, "order " + key + "," + key + ";", 5, 7 + key.length());
+            fault(e, words, "order " + key + ",diff," + key + ";", 5, 12 + key.length());
+        }
         fault(e, words, "order diff,scored,wins,away,head,fair,lots,diff;", 5, 43);
         fault(e, words, "order diff,scored,wins,away,head,fair,lots,;", 2, 43);
         fault(e, words, "order diff,scored,wins,away,head,fair,lots,goals;", 3, 43);
@@ -340,6 +344,19 @@ final class EdgesText {
         fault(e, words, "order legs;", 3, 6);
         fault(e, words, "order tennis;", 3, 6);
         fault(e, words, "redo;chess;", 3, 5);
+        // The end of a word, or its middle, is another word.
+        fault(e, words, "port tennis;", 3, 0);
+        fault(e, words, "edo;", 3, 0);
+        fault(e, words, "oints 3 1 0;", 3, 0);
+        fault(e, words, "sport ball;", 3, 6);
+        fault(e, words, "sport nis;", 3, 6);
+        fault(e, words, "order ots;", 3, 6);
+        fault(e, words, "order f;", 3, 6);
+        // The text is full in the midst of a word, or of what would be one.
+        e.edge(4, words, "398* sign 32 | sign 108 | sign 101 = 400 | competition = -13 | fault = 398");
+        e.edge(4, words, "399* sign 32 | sign 115 = 400 | competition = -13 | fault = 399");
+        // A longer text was there before: of what it had behind the end nothing is read.
+        e.edge(4, words, "rules legs 4; chess; = -13 | rules legs = -12 | fault = 4 | rules leg = -13 | fault = 0 | rules legs 4;  = 0");
         fault(e, "4 a NUMBER out of its bounds", "legs 5;", 4, 5);
         fault(e, "4 a NUMBER out of its bounds", "redo;  legs 0;", 4, 12);
     }

@@ -13,6 +13,7 @@ final class EdgesTitle {
         cutBounds(e);
         caps(e);
         cuts(e);
+        byTrying(e);
         firstsBounds(e);
         firstsRows(e);
         firstsByKeys(e);
@@ -68,9 +69,26 @@ final class EdgesTitle {
             league 8 0 points 6 4 2;legs2;every1; | can 0 7 = 2 | walkOver 1 0 = 1 | can 0 7 = 2 | walkOver 0 0 = 1 | can 0 7 = 2
             witness 5 = NONE | cut = 0 | walkOver 2 0 = 1 | can 0 7 = 1
             """);
+        // Forty are left, and club 5 has no chance: each of the others has more than it at once.
+        e.edge(34, "with W + L = 2 D 40", """
+            league 6 0 points 2 1 0;legs4;every1; | deduct 0 5 41 | can 0 5 = 0 | cut = 1 | deduct 0 0 99 | can 0 5 = 0 | cut = 2
+            """);
+        e.edge(32, "with W + L = 2 D 40", twelve("points 2 1 0;", 3) + "can 0 11 = 1 | deduct 0 11 99 | can 0 11 = 0");
+        e.edge(32, "with W + L = 2 D 40", twelve("points 2 1 0;", 2) + "can 0 11 = 2 | deduct 0 11 99 | can 0 11 = 2");
+        e.edge(32, "are 8 at most", twelve("", 9) + "can 0 11 = 2 | deduct 0 11 99 | can 0 11 = 2 | day 9 | walkOver 55 0 = 1"
+            + " | can 0 11 = 2 | walkOver 54 0 = 1 | can 0 11 = 2 | walkOver 56 0 = 1 | can 0 11 = 0 | cut = 0");
         e.edge(32, "with W + L = 2 D 40", """
             league 4 0 points 3 2 0;legs3;every1; | can 0 3 = 2 | walkOver 1 0 = 1 | can 0 3 = 1
             """);
+    }
+
+    /** Twelve clubs, and so many rounds of which each match was walked over by the side away. */
+    private static String twelve(String text, int rounds) {
+        StringBuilder script = new StringBuilder("league 12 0 every1;" + text + "\n");
+        for (int m = 0; m < 6 * rounds; m++) {
+            script.append(m > 0 && m % 6 == 0 ? "day " + m / 6 + " | " : "").append("walkOver ").append(m).append(" 1 = 1\n");
+        }
+        return script.toString();
     }
 
     private static void witnessBounds(Edges e) {
@@ -177,6 +195,101 @@ final class EdgesTitle {
             """);
     }
 
+    private static void byTrying(Edges e) {
+        int[][] rules = {{3, 1, 0}, {2, 1, 0}, {4, 2, 0}, {3, 2, 1}, {3, 2, 0}, {1, 1, 1}, {2, 2, 0}, {6, 3, 1}};
+        int[][] less = {{0, 0, 0}, {0, 1, 2}, {2, 0, 1}, {3, 1, 0}};
+        for (int[] points : rules) {
+            for (int[] gone : less) {
+                for (int own = 0; own <= 3 * points[0] + 1; own++) {
+                    tryAll(e, points, new int[] {gone[0], gone[1], gone[2], own});
+                }
+            }
+        }
+        int[][] five = {{2, 1, 0}, {4, 2, 0}, {5, 3, 1}, {3, 1, 0}};
+        int[][] fewer = {{0, 0, 0, 0}, {4, 3, 1, 0}, {0, 1, 3, 4}, {3, 0, 4, 1}, {1, 4, 0, 3}, {0, 6, 0, 2}, {5, 0, 2, 0}};
+        for (int[] points : five) {
+            for (int[] gone : fewer) {
+                for (int own = points[0]; own <= 4 * points[0]; own++) {
+                    tryAll(e, points, new int[] {gone[0], gone[1], gone[2], gone[3], own});
+                }
+            }
+        }
+    }
+
+    /** Clubs that have all matches left, and points deducted: can the last one be first, by trying all rows. */
+    private static void tryAll(Edges e, int[] points, int[] gone) {
+        int clubs = gone.length;
+        int asked = clubs - 1;
+        SportsHouse plain = Setup.league("", clubs, 0);
+        int matches = plain.count(5);
+        int[] home = new int[matches];
+        int[] away = new int[matches];
+        StringBuilder script = new StringBuilder("league " + clubs + " 0 points " + points[0] + " " + points[1] + " "
+            + points[2] + ";\n");
+        for (int m = 0; m < matches; m++) {
+            home[m] = plain.match(m, 2);
+            away[m] = plain.match(m, 3);
+        }
+        for (int club = 0; club < clubs; club++) {
+            script.append(gone[club] > 0 ? "deduct 0 " + club + " " + gone[club] + "\n" : "");
+        }
+        int[] results = new int[matches];
+        boolean found = tryFrom(0, results, home, away, points, gone);
+        script.append("can 0 ").append(asked).append(" = ").append(found ? 1 : 0).append(" | cut = ");
+        script.append(found ? 0 : leastCut(points, gone)).append('\n');
+        for (int m = 0; m < matches; m++) {
+            script.append("witness ").append(m).append(" = ").append(found ? results[m] : SportsHouse.NONE).append('\n');
+        }
+        e.edge(33, "of all such rows of results", script.toString());
+    }
+
+    /** Puts the first row of results from match m on after which none has more than the last club; false: there is none. */
+    private static boolean tryFrom(int m, int[] results, int[] home, int[] away, int[] points, int[] gone) {
+        int asked = gone.length - 1;
+        if (m == results.length) {
+            int[] has = new int[gone.length];
+            for (int k = 0; k < m; k++) {
+                has[home[k]] += points[results[k]];
+                has[away[k]] += points[2 - results[k]];
+            }
+            boolean first = true;
+            for (int club = 0; club < asked; club++) {
+                first = first && has[club] - gone[club] <= has[asked] - gone[asked];
+            }
+            return first;
+        }
+        for (int result = 0; result < 3; result++) {
+            results[m] = result;
+            boolean loses = home[m] == asked && result > 0 || away[m] == asked && result < 2;
+            if (!loses && tryFrom(m + 1, results, home, away, points, gone)) {
+                return true;
+            }
+        }
+        return false;
+    }
+
+    /** The least set of clubs ahead of the last whose caps are below twice its matches; 0 with uneven points. */
+    private static int leastCut(int[] points, int[] gone) {
+        if (points[0] + points[2] != 2 * points[1]) {
+            return 0;
+        }
+        int others = gone.length - 1;
+        for (int set = 1; set < 1 << others; set++) {
+            int caps = 0;
+            for (int club = 0; club < others; club++) {
+                int spare = others * points[0] - gone[others] + gone[club] - others * points[2];
+                int part = points[0] - points[1];
+                int cap = spare < 0 ? -1 : part == 0 ? 1000 : spare / part;
+                caps += (set >> club & 1) * cap;
+            }
+            int clubs = Integer.bitCount(set);
+            if (caps < clubs * (clubs - 1)) {
+                return set;
+            }
+        }
+        throw new IllegalStateException("there is no cut");
+    }
+
     private static void firstsBounds(Edges e) {
         e.edge(35, "UNKNOWN; STATE: it has not entered, or it is not planned.", """
             firsts 0 0 = UNKNOWN | 2* competition | firsts 0 0 = UNKNOWN | clubs 3 | firsts 0 0 = STATE | enter 0 0 | enter 0 1
@@ -198,6 +311,9 @@ final class EdgesTitle {
         // Behind 1 to 0 for the other: level by all keys is a first place shared.
         e.edge(35, "in how many the club stands at place 1 (shared, too)", """
             league 2 1 legs2;every1;field1; | score 0 0 1 | firsts 0 0 = 1 | firsts 0 1 = 3
+            """);
+        e.edge(35, "in how many the club stands at place 1 (shared, too)", """
+            league 2 1 legs2;every1;field1; | score 0 1 0 | firsts 0 0 = 3 | firsts 0 1 = 1
             """);
         e.edge(35, "in how many the club stands at place 1 (shared, too)", """
             league 3 0 points 0 0 0;order away; | firsts 0 0 = 17 | firsts 0 1 = 17 | firsts 0 2 = 17
