@@ -4,7 +4,7 @@ record Call(String name, int[] numbers) {
         return new Call(name, numbers);
     }
 
-    int on(SportsHouse house) {
+    int on(Object house) {
         return Calls.ask(house, name, numbers);
     }
 

@@ -147,8 +147,8 @@ public final class DrawTest {
     }
 
     private void balls() {
-        SportsHouse x = clubs(12);
         for (int start : new int[] {0, 1, -1, 12345, Integer.MIN_VALUE}) {
+            SportsHouse x = clubs(12);
             x.drawing(4, 1);
             for (int club = 0; club < 12; club++) {
                 x.pot(club, club % 3);

@@ -744,6 +744,23 @@ final class EdgesPlay {
             begun 2 sport baseball;field1; | event 0 2 1 0 0 | event 0 3 1 0 0 | state 0 1 = 1 | state 0 2 = 1 | state 0 6 = 0
             state 0 7 = 0
             """);
+        String last = "of volleyball, tennis the set, of baseball the inning, from 0 on, when it has ENDED the last one";
+        e.edge(27, last, """
+            begun 1 sport volleyball;field1;target2; | state 0 0 = 0 | 2* event 0 1 0 0 0 | state 0 0 = 1 | 2* event 0 1 0 0 0
+            state 0 0 = 2 | event 0 1 0 0 0 | state 0 0 = 2 | event 0 1 0 0 0 | match 0 5 = 2 | state 0 0 = 2
+            """);
+        e.edge(27, last, """
+            begun 1 sport tennis;field1;target2; | state 0 0 = 0 | 8* event 0 1 0 0 0 | state 0 0 = 1 | 7* event 0 1 0 0 0
+            state 0 0 = 1 | event 0 1 0 0 0 | match 0 5 = 2 | state 0 0 = 1
+            """);
+        e.edge(27, last, """
+            begun 1 sport baseball;field1;target2; | state 0 0 = 0 | event 0 1 1 0 4 | 3* event 0 4 1 0 0 | state 0 0 = 0
+            3* event 0 4 0 0 0 | state 0 0 = 1 | 3* event 0 4 1 0 0 | 3* event 0 4 0 0 0 | match 0 5 = 2 | state 0 0 = 1
+            """);
+        e.edge(27, "PHASE 0 and 2 are halves, 1 the break", """
+            begun 1 field1; | event 0 1 0 0 0 = 1 | event 0 0 0 0 0 = 2 | state 0 0 = 1 | event 0 1 0 0 0 = -13 | event 0 0 0 0 0 = 3
+            state 0 0 = 2 | event 0 1 0 0 0 = 4
+            """);
         e.edge(27, "of football 3 behind the last whistle", """
             begun 1 field1; | whistles 0 | state 0 0 = 3
             """);

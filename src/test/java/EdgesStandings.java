@@ -88,6 +88,15 @@ final class EdgesStandings {
             begun 1 sport tennis;field1;target2; | 8* event 0 1 0 0 0 | event 0 6 0 0 0 | table 0 0 0 4 = 1 | table 0 0 0 5 = 2
             table 0 0 1 6 = 3
             """);
+        e.edge(29, "The score are RUNS.", """
+            begun 1 sport baseball;field1;target2; | 2* event 0 1 1 0 4 | 3* event 0 4 1 0 0 | event 0 1 0 0 4 | 3* event 0 4 0 0 0
+            table 0 0 1 4 = 0 | 3* event 0 4 1 0 0 | 3* event 0 4 0 0 0 | table 0 0 1 4 = 2 | table 0 0 1 5 = 1 | table 0 0 1 1 = 1
+            table 0 0 0 4 = 1 | table 0 0 0 3 = 1
+            """);
+        e.edge(29, "The score are SETS.", """
+            begun 1 sport volleyball;field1;target2; | 2* event 0 1 1 0 0 | 6* event 0 1 0 0 0 | table 0 0 0 4 = 3 | table 0 0 0 5 = 1
+            table 0 0 1 3 = 1
+            """);
         // Of another competition nothing counts.
         e.edge(29, "STANDINGS of a competition on a day: by its matches", """
             2* competition | clubs 2 | 2* enter 0 @ | 2* enter 1 @ | plan 0 0 = 0 | plan 1 0 = 1 | walkOver 0 0 = 1

@@ -322,6 +322,9 @@ final class EdgesTitle {
             begun 1 field1;order diff,fair; | 5* event 0 1 0 0 0 | event 0 3 0 0 0 | firsts 0 0 = 2 | firsts 0 1 = 2 | match 0 6 = 5
             whistles 0 | firsts 0 0 = 1 | firsts 0 1 = 0
             """);
+        e.edge(35, "in every sport", "league 2 0 sport baseball; | firsts 0 0 = 2 | firsts 0 1 = 2");
+        e.edge(35, "in every sport", "league 2 0 sport tennis;order scored; | firsts 0 0 = 2 | deduct 0 0 3 | firsts 0 0 = 1");
+        e.edge(35, "in every sport", "league 2 0 sport volleyball;order diff; | firsts 0 1 = 2");
         e.edge(35, "with 3 matches left at most", """
             league 3 0 points 1 1 1;order wins; | firsts 0 0 = 14 | firsts 0 1 = 14 | firsts 0 2 = 14
             """);

@@ -98,6 +98,8 @@ public final class FixturesTest {
         int[] meetings = new int[144];
         int[] atHome = new int[12];
         for (int m = 0; m < 264; m++) {
+            // An object is used for 512 calls at most.
+            x = m % 66 == 0 ? Setup.league("legs4;", 12, 0) : x;
             int home = x.match(m, 2);
             meetings[home * 12 + x.match(m, 3)]++;
             atHome[home]++;

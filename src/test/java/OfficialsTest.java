@@ -161,8 +161,9 @@ public final class OfficialsTest {
             x.official(11 - k, k);
         }
         CHECK.due("24 matches of a day", x.assign(3), 8);
+        CHECK.due("all matches", x.count(5), 264);
         int seen = 0;
-        for (int m = 0; m < x.count(5); m++) {
+        for (int m = 0; m < 264; m++) {
             int who = x.officialOf(m);
             if (who != NONE) {
                 CHECK.due("on that day", x.match(m, 4), 3);

@@ -205,7 +205,7 @@ public final class RandomRunsTest {
         }
         enterAll(c);
         twin.call("plan", c, below(3));
-        matches = twin.house.count(5);
+        matches = twin.model.count(5);
         for (int m = 0; m < matches && twin.left() > 60; m++) {
             playOne(c, m);
         }
@@ -215,14 +215,14 @@ public final class RandomRunsTest {
     }
 
     private void playOne(int c, int m) {
-        int date = twin.house.match(m, 4);
+        int date = twin.model.match(m, 4);
         if (chance(8)) {
             twin.call("postpone", m, today + from(0, 6));
-            date = twin.house.match(m, 4);
+            date = twin.model.match(m, 4);
         }
         if (date > today) {
             twin.call("day", date);
-            today = twin.house.count(7);
+            today = twin.model.count(7);
         }
         if (chance(12)) {
             twin.call("walkOver", m, below(2));
@@ -237,7 +237,7 @@ public final class RandomRunsTest {
         }
         twin.call("start", m);
         int n = sport == 3 ? 40 : sport == 0 ? 9 : 30;
-        for (int k = 0; k < n && twin.left() > 40 && twin.house.match(m, 5) == 1; k++) {
+        for (int k = 0; k < n && twin.left() > 40 && twin.model.match(m, 5) == 1; k++) {
             oneEvent(m);
             if (chance(10)) {
                 oneReview(m);
@@ -250,13 +250,13 @@ public final class RandomRunsTest {
 
     private int side(int m) {
         if (sport == 3 && chance(95)) {
-            return twin.house.state(m, 5);
+            return twin.model.state(m, 5);
         }
         return chance(96) ? below(2) : from(-1, 2);
     }
 
     private int someone(int m, int side) {
-        int on = twin.house.onField(m, side, below(field));
+        int on = twin.model.onField(m, side, below(field));
         return chance(92) ? on : from(-1, persons);
     }
 
@@ -291,14 +291,14 @@ public final class RandomRunsTest {
     }
 
     private void oneReview(int m) {
-        int rows = twin.house.rows(m, 0);
+        int rows = twin.model.rows(m, 0);
         int[] e = randomEvent(m);
         int i = chance(90) && rows > 0 ? below(rows) : from(-1, rows);
         if (chance(20)) {
             twin.call("review", m, i, -1, 0, 0, 0);
         } else if (chance(10)) {
-            twin.call("review", m, i, twin.house.row(m, i, 0), twin.house.row(m, i, 1), twin.house.row(m, i, 2),
-                twin.house.row(m, i, 3));
+            twin.call("review", m, i, twin.model.row(m, i, 0), twin.model.row(m, i, 1), twin.model.row(m, i, 2),
+                twin.model.row(m, i, 3));
         } else {
             twin.call("review", m, i, e[0], e[1], e[2], e[3]);
         }
@@ -320,7 +320,7 @@ public final class RandomRunsTest {
             case 7: twin.call("firsts", c, below(clubs)); break;
             case 8: twin.call("can", c, below(clubs)); break;
             default:
-                if (m >= 0 && m < matches && twin.house.rows(m, 0) > 0 && twin.left() > 4) {
+                if (m >= 0 && m < matches && twin.model.rows(m, 0) > 0 && twin.left() > 4) {
                     oneReview(m);
                 } else {
                     twin.call("count", from(-1, 8));
@@ -363,7 +363,7 @@ public final class RandomRunsTest {
         int strong = below(2);
         int share = from(40, 75);
         while (twin.left() > 20) {
-            if (twin.house.match(0, 5) == 2 && chance(60) || chance(4)) {
+            if (twin.model.match(0, 5) == 2 && chance(60) || chance(4)) {
                 oneReview(0);
             } else {
                 smartEvent(strong, share);
@@ -377,8 +377,8 @@ public final class RandomRunsTest {
     }
 
     private void smartEvent(int strong, int share) {
-        int side = sport == 3 ? twin.house.state(0, 5) : chance(share) ? strong : 1 - strong;
-        int on = twin.house.onField(0, side, below(field));
+        int side = sport == 3 ? twin.model.state(0, 5) : chance(share) ? strong : 1 - strong;
+        int on = twin.model.onField(0, side, below(field));
         if (sport == 0) {
             twin.call("event", 0, chance(4) ? 0 : chance(75) ? any(new Integer[] {1, 1, 2, 5, 5}) : from(3, 4), side, on,
                 below(persons));
@@ -400,7 +400,7 @@ public final class RandomRunsTest {
         makeClubs(from(3, 9), 4, 3);
         enterAll(c);
         twin.call("plan", c, 0);
-        matches = twin.house.count(5);
+        matches = twin.model.count(5);
         for (int k = below(4); k > 0; k--) {
             twin.call("deduct", c, below(clubs), from(1, 7));
         }
@@ -411,8 +411,8 @@ public final class RandomRunsTest {
                 askTitle(c);
             }
             twin.call("day", today + 1);
-            today = twin.house.count(7);
-            if (twin.house.match(matches - 1, 4) < today) {
+            today = twin.model.count(7);
+            if (twin.model.match(matches - 1, 4) < today) {
                 break;
             }
         }
@@ -424,8 +424,8 @@ public final class RandomRunsTest {
 
     private void walkDay(int bias) {
         for (int m = 0; m < matches && twin.left() > 60; m++) {
-            if (twin.house.match(m, 4) == today && chance(85)) {
-                int side = twin.house.match(m, 2) == bias && chance(80) ? 0 : below(2);
+            if (twin.model.match(m, 4) == today && chance(85)) {
+                int side = twin.model.match(m, 2) == bias && chance(80) ? 0 : below(2);
                 twin.call("walkOver", m, side);
             }
         }
@@ -436,7 +436,7 @@ public final class RandomRunsTest {
         twin.call("can", c, club);
         twin.call("cut");
         for (int m = 0; m < matches && twin.left() > 60; m++) {
-            if (twin.house.match(m, 5) == 0 || chance(5)) {
+            if (twin.model.match(m, 5) == 0 || chance(5)) {
                 twin.call("witness", m);
             }
         }
@@ -456,11 +456,11 @@ public final class RandomRunsTest {
         makeClubs(kind == 4 ? from(3, 5) : from(4, legs > 2 ? 5 : 7), 4, 3);
         enterAll(c);
         twin.call("plan", c, 0);
-        matches = twin.house.count(5);
+        matches = twin.model.count(5);
         for (int days = from(0, 3); days > 0; days--) {
             walkDay(below(clubs));
             twin.call("day", today + 1);
-            today = twin.house.count(7);
+            today = twin.model.count(7);
         }
         int club = below(clubs);
         for (int k = below(4); k > 0; k--) {
@@ -470,7 +470,7 @@ public final class RandomRunsTest {
             int can = twin.call("can", c, club);
             twin.call("cut");
             for (int m = 0; can == 1 && m < matches; m++) {
-                if (twin.house.match(m, 5) == 0) {
+                if (twin.model.match(m, 5) == 0) {
                     twin.call("witness", m);
                 }
             }
@@ -494,13 +494,13 @@ public final class RandomRunsTest {
         }
         enterAll(c);
         twin.call("plan", c, 0);
-        matches = twin.house.count(5);
+        matches = twin.model.count(5);
         for (int k = 0; k < 6; k++) {
             twin.call("postpone", below(matches), from(1, 9));
         }
         while (twin.left() > 60 && today < 30) {
             for (int m = 0; m < matches; m++) {
-                if (twin.house.match(m, 4) == today && twin.left() > 60) {
+                if (twin.model.match(m, 4) == today && twin.left() > 60) {
                     playForCards(m);
                 }
             }
@@ -508,7 +508,7 @@ public final class RandomRunsTest {
                 twin.call("eligible", below(persons), below(matches), below(2));
             }
             twin.call("day", today + 1);
-            today = twin.house.count(7);
+            today = twin.model.count(7);
         }
         for (int p = 0; p < persons && twin.left() > 2; p++) {
             twin.call("eligible", p, below(matches), 0);
@@ -522,12 +522,12 @@ public final class RandomRunsTest {
             return;
         }
         for (int p = 0; p < persons; p++) {
-            twin.call("lineUp", p, m, twin.house.eligible(p, m, 0) == 0 ? 0 : 1);
+            twin.call("lineUp", p, m, twin.model.eligible(p, m, 0) == 0 ? 0 : 1);
         }
         twin.call("start", m);
         for (int k = below(4); k > 0; k--) {
             int side = below(2);
-            twin.call("event", m, from(3, 5), side, twin.house.onField(m, side, below(2)), below(persons));
+            twin.call("event", m, from(3, 5), side, twin.model.onField(m, side, below(2)), below(persons));
         }
         for (int k = 0; k < 3; k++) {
             twin.call("event", m, 0, 0, 0, 0);
@@ -568,7 +568,7 @@ public final class RandomRunsTest {
             enterAll(c);
             twin.call("plan", c, chance(20) ? from(960, 999) : from(0, 5));
         }
-        matches = twin.house.count(5);
+        matches = twin.model.count(5);
         while (twin.left() > 12 && matches > 0) {
             oneOfCalendar();
         }
@@ -576,13 +576,13 @@ public final class RandomRunsTest {
 
     private void oneOfCalendar() {
         int m = below(matches);
-        int d = twin.house.match(m, 4);
+        int d = twin.model.match(m, 4);
         switch (below(8)) {
             case 0:
             case 1:
             case 2: postponeSome(m, d); break;
             case 3: twin.call("match", m, 4); break;
-            case 4: twin.call("day", Math.min(today + from(0, 2), d)); today = twin.house.count(7); break;
+            case 4: twin.call("day", Math.min(today + from(0, 2), d)); today = twin.model.count(7); break;
             case 5: twin.call("walkOver", m, below(2)); break;
             case 6:
                 if (twin.model.openOn(d) <= 7) {
@@ -606,7 +606,7 @@ public final class RandomRunsTest {
 
     private void askOfficials(int d) {
         for (int m = 0; m < matches && twin.left() > 12; m++) {
-            if (twin.house.match(m, 4) == d) {
+            if (twin.model.match(m, 4) == d) {
                 twin.call("officialOf", m);
             }
         }

@@ -177,7 +177,12 @@ final class Script {
         }
     }
 
-    private static boolean isWithoutChange(String name, int got) {
+    /** The calls that made the house what it is now. */
+    List<Call> made() {
+        return made;
+    }
+
+    static boolean isWithoutChange(String name, int got) {
         boolean faulty = name.equals("competition") && got <= -10;
         return LOOKS.contains(name) || got < SportsHouse.NONE && !faulty;
     }
