@@ -113,6 +113,11 @@ final class EdgesOfficials {
             official 4 2 | postpone 0 9 = 0 | assign 9 = 1 | officialOf 0 = 0 | postpone 0 3 = 0 | assign 3 = 1 | officialOf 1 = 0
             officialOf 0 = NONE
             """);
+        // What was reckoned for two matches is not in what is reckoned for one.
+        e.edge(42, "Matches of a day get OFFICIALS", day(5, 0) + """
+            official 0 2 | assign 3 = 1 | officialOf 0 = NONE | officialOf 1 = 0 | postpone 1 9 = 0 | assign 3 = 1 | officialOf 0 = 0
+            officialOf 1 = 0 | official 5 2 | assign 9 = 1 | assign 3 = 1 | officialOf 0 = 1
+            """);
         e.edge(43, "others keep what they have, also when they are postponed or end", """
             league 2 1 field1;legs2;every1; | official 0 7 | assign 0 = 1 | assign 1 = 1 | postpone 1 9 = 0 | officialOf 1 = 0
             assign 1 = 0 | officialOf 1 = 0 | 2* lineUp @ 0 @ | start 0 = 1 | whistles 0 | officialOf 0 = 0 | assign 0 = 0

@@ -234,6 +234,15 @@ final class EdgesPlay {
             begun 5 field2;subs2; | event 0 5 0 0 2 = 1 | event 0 1 0 0 0 = -14 | event 0 5 0 1 0 = -15 | event 0 5 0 2 3 = 2
             event 0 5 0 1 4 = -16 | event 0 5 1 5 7 = 3 | event 0 5 1 6 8 = 4 | event 0 5 1 7 9 = -16 | state 0 6 = 2 | state 0 7 = 2
             """);
+        // The last of a full field, and the last of a full bench; who was sent off stays so.
+        e.edge(23, "the other one, from the bench, stands where the person stood", """
+            begun 10 field6;subs5; | event 0 5 1 15 19 = 1 | onField 0 1 5 = 19 | onField 0 1 6 = NONE | event 0 5 0 5 9 = 2
+            onField 0 0 5 = 9 | event 0 1 0 5 0 = -14 | event 0 1 1 15 0 = -14 | event 0 1 1 19 0 = 3
+            """);
+        e.edge(23, "off the field for good", """
+            begun 4 field3;legs2;every1; | event 0 4 1 6 0 = 1 | event 0 5 0 2 3 = 2 | whistles 0 | eligible 6 1 0 = 2
+            eligible 2 1 1 = 0 | eligible 5 1 0 = 0
+            """);
         // A yellow is the person's, not the place's.
         e.edge(23, "3 YELLOW of the person", """
             begun 3 field2; | event 0 3 0 0 0 = 1 | event 0 5 0 0 2 = 2 | event 0 3 0 2 0 = 3 | onField 0 0 0 = 2

@@ -214,6 +214,12 @@ final class EdgesTitle {
                 }
             }
         }
+        int[][] six = {{0, 2, 4, 6, 1, 9}, {1, 5, 0, 2, 4, 9}, {7, 0, 0, 3, 2, 8}, {3, 3, 0, 6, 0, 8}, {0, 0, 5, 0, 7, 9},
+            {4, 0, 6, 1, 1, 8}, {2, 6, 1, 0, 3, 8}, {0, 4, 0, 4, 4, 8}, {5, 5, 5, 0, 0, 9}, {0, 1, 2, 3, 4, 8},
+            {2, 5, 6, 2, 0, 9}, {0, 6, 5, 0, 0, 8}, {0, 1, 6, 3, 0, 8}, {3, 1, 6, 5, 0, 9}, {1, 3, 6, 0, 0, 8}};
+        for (int[] gone : six) {
+            tryAll(e, new int[] {2, 1, 0}, gone);
+        }
     }
 
     /** Clubs that have all matches left, and points deducted: can the last one be first, by trying all rows. */
