@@ -23,6 +23,7 @@ final class EdgesFixtures {
         goingBehind(e);
         nothingIsDone(e);
         moved(e);
+        movedBefore(e);
         deducting(e);
     }
 
@@ -368,6 +369,19 @@ final class EdgesFixtures {
         e.edge(17, "by the latest postpone() that was done", """
             league 4 0 every5; | postpone 0 5 = 2 | postpone 0 5 = STATE | postpone 9 5 = UNKNOWN | postpone 0 1000 = OUTSIDE
             moved 0 = 2 | moved 1 = 3 | postpone 0 500 = 0 | moved 0 = NONE | moved 1 = NONE
+            """);
+    }
+
+    private static void movedBefore(Edges e) {
+        // Match 1 is put where match 0 goes on; then where no day is left for match 3.
+        e.edge(17, "by the latest postpone() that was done", """
+            league 2 1 field1;legs4;every5; | postpone 1 10 = 1 | moved 0 = 2 | 2* lineUp @ 0 @ | start 0 = 1 | day 1
+            postpone 3 999 = 0 | postpone 1 14 = 0 | moved 0 = NONE | postpone 2 14 = 1 | moved 0 = 1 | postpone 2 999 = STATE
+            moved 0 = 1 | moved 1 = NONE | match 2 4 = 14 | match 3 4 = 999
+            """);
+        e.edge(17, "by the latest postpone() that was done", """
+            league 2 1 field1;legs3;every5;rest9; | postpone 1 10 = 1 | moved 0 = 2 | 2* lineUp @ 0 @ | start 0 = 1
+            postpone 1 8 = STATE | moved 0 = 2 | moved 1 = NONE | match 1 4 = 10 | match 2 4 = 19
             """);
     }
 

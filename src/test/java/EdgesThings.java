@@ -25,6 +25,11 @@ final class EdgesThings {
             club 0 -1 = OUTSIDE | club 0 0 = 0 | club 0 7 = 1 | club 0 8 = OUTSIDE | club 0 MIN = OUTSIDE
             club 0 MAX = OUTSIDE | count 0 = 2
             """);
+        // The thirteenth is none of the twelve that there are.
+        e.edge(7, "CLUBS (12 at most)", """
+            competition | 12* club @ 1 | enter 0 11 | enter 0 0 | plan 0 3 = 0 | official 10 0 | official 5 0 | club 5 0 = ROOM
+            club 0 7 = ROOM | assign 3 = 1 | officialOf 0 = 0
+            """);
         e.edge(7, "A CLUB: its number. OUTSIDE; ROOM.", """
             12* club 0 0 | club 12 0 = OUTSIDE | club 0 8 = OUTSIDE | club -1 -1 = OUTSIDE | club 0 0 = ROOM
             """);
@@ -33,6 +38,10 @@ final class EdgesThings {
     private static void persons(Edges e) {
         e.edge(8, "PERSONS (200 at most)", """
             199* person = 0.. | person = 199 | person = ROOM | person = ROOM | count 1 = 200
+            """);
+        e.edge(8, "PERSONS (200 at most)", """
+            rules field1; = 0 | clubs 2 | 200* person | register 0 0 0 9 | register 199 0 0 9 | 2* enter 0 @ | plan 0 3 = 0
+            person = ROOM | eligible 0 0 0 = 0 | eligible 199 0 0 = 0 | eligible 1 0 0 = 1 | register 0 0 9 10 = STATE
             """);
         e.edge(8, "A PERSON: its number. ROOM.", """
             club 0 0 | register 0 0 0 0 = UNKNOWN | person = 0 | register 0 0 0 0 = 1 | register 1 0 0 0 = UNKNOWN
@@ -85,6 +94,10 @@ final class EdgesThings {
     private static void officials(Edges e) {
         e.edge(10, "OFFICIALS (8 at most)", """
             7* official 0 0 = 0.. | official 0 0 = 7 | official 0 0 = ROOM | official 11 7 = ROOM | count 3 = 8
+            """);
+        e.edge(10, "OFFICIALS (8 at most)", """
+            competition | clubs 2 | 2* enter 0 @ | plan 0 3 = 0 | 7* official 11 7 | official 1 7 = 7 | official 11 0 = ROOM
+            official 0 1 = ROOM | assign 3 = 1 | officialOf 0 = 7
             """);
         e.edge(10, "have a HOME (0 to 11) and a COUNTRY", """
             official -1 0 = OUTSIDE | official 12 0 = OUTSIDE | official 0 -1 = OUTSIDE | official 0 8 = OUTSIDE

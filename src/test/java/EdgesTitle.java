@@ -153,7 +153,7 @@ final class EdgesTitle {
             """);
         e.edge(34, "THE CUT of the latest can() that was not refused", """
             league 3 0 points 2 1 0; | deduct 0 0 9 | can 0 0 = 0 | cut = 2 | can 0 3 = UNKNOWN | cut = 2 | can 1 0 = UNKNOWN
-            cut = 2 | club 0 0 | can 0 3 = STATE | cut = 2 | deduct 0 1 9 | cut = 2 | can 0 0 = 0 | cut = 4
+            cut = 2 | firsts 0 0 = 0 | cut = 2 | club 0 0 | can 0 3 = STATE | cut = 2 | deduct 0 1 9 | cut = 2 | can 0 0 = 0 | cut = 4
             """);
     }
 

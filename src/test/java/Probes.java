@@ -169,11 +169,13 @@ final class Probes {
         }
         add("ball", 0, 0);
         next();
-        add("drawing", 2, 1);
-        add("pot", 0, 0);
-        add("pot", 1, 1);
-        add("ball", 0, 0);
-        add("ball", 0, 0);
+        add("drawing", 4, 3);
+        for (int club = 0; club < clubs; club++) {
+            add("pot", club, club / 4);
+        }
+        for (int club = 0; club < clubs; club++) {
+            add("ball", 0, 0);
+        }
     }
 
     private void enter() {
